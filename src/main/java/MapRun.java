@@ -1392,7 +1392,17 @@ public final class MapRun {
             if (opening == WORD_SET) {
                 return readSetting() && readSign(';');
             }
-            if (!readUnless() || !readSign(';')) {
+            if (!readOr(0)) {
+                return false;
+            }
+            if (word == WORD_UNLESS) {
+                step();
+                if (!readOr(0)) {
+                    return false;
+                }
+                emit(Rules.UNLESS);
+            }
+            if (!readSign(';')) {
                 return false;
             }
             emit(opening == WORD_PENALTY ? Rules.END_PENALTY : Rules.END_OUT);
@@ -1413,20 +1423,6 @@ public final class MapRun {
             }
             params[param] = numberOfToken();
             step();
-            return true;
-        }
-
-        private boolean readUnless() {
-            if (!readOr(0)) {
-                return false;
-            }
-            if (word == WORD_UNLESS) {
-                step();
-                if (!readOr(0)) {
-                    return false;
-                }
-                emit(Rules.UNLESS);
-            }
             return true;
         }
 
@@ -1601,10 +1597,10 @@ public final class MapRun {
         }
 
         private static int kindOf(int sign) {
-            if (within(sign, 'a', 'z')) {
+            if (sign >= 'a' && sign <= 'z') {
                 return WORD;
             }
-            if (within(sign, '0', '9')) {
+            if (sign >= '0' && sign <= '9') {
                 return NUMBER;
             }
             switch (sign) {
