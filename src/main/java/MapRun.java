@@ -1200,25 +1200,24 @@ public final class MapRun {
         static final int UNLESS = NOT + 9;
         static final int END_PENALTY = NOT + 10;
         static final int END_OUT = NOT + 11;
+        private static final int DEFAULT_LIMIT = 3600;
+        private static final int DEFAULT_GAP = 60;
+        private static final int DEFAULT_WINDOW = 900;
         private static final int MOST_PENALTY = 9999;
         private static final int STACK = 64;
 
         private final int[] codes = new int[MOST_BYTES];
-        private final int[] params = new int[PARAMS];
+        private final int[] params = {DEFAULT_LIMIT, DEFAULT_GAP, DEFAULT_WINDOW};
         private final int[] stack = new int[STACK];
         private int size = 0;
         private int top = 0;
         private int penalty = 0;
         private boolean out = false;
 
-        Rules() {
-            setDefaults(params);
-        }
-
         static void setDefaults(int[] params) {
-            params[LIMIT] = 3600;
-            params[GAP] = 60;
-            params[WINDOW] = 900;
+            params[LIMIT] = DEFAULT_LIMIT;
+            params[GAP] = DEFAULT_GAP;
+            params[WINDOW] = DEFAULT_WINDOW;
         }
 
         void clear() {

@@ -53,6 +53,9 @@ public final class BestTest {
     }
 
     private static void within() {
+        MapRun end = line(5, 1, 10, 4, 20);
+        end.gates(0, 0, 4, 0);
+        due(end, 20, 30, 3, 20);
         MapRun x = line(9, 3, 10, 7, 30, 5, 5);
         x.gates(4, 0, 4, 0);
         due(x, 0, 0, 0, 0);

@@ -60,6 +60,7 @@ public final class CoursesTest {
         Check.noSuch("but must be a post", () -> x.add(1, 0, 0, 3));
         Check.noSuch("b", () -> x.add(1, 0, -1, 0));
         Check.noSuch("a", () -> x.add(1, 3, 3, 0));
+        Check.noSuch("a alone", () -> x.add(1, 3, 0, 0));
         Check.noSuch("course", () -> x.add(2, 0, 0, 0));
         Check.noSuch("course -1", () -> x.add(-1, 0, 0, 0));
         Check.noSuch("the 13th, of no post", () -> x.add(0, 0, 0, 20));
@@ -97,7 +98,7 @@ public final class CoursesTest {
         Check.noSuch("course -1, and club", () -> x.runner(-1, 10, 0));
         Check.same("none yet, the land still changes", Check.of(x.cell(0, 0, 0, 0)), 1);
         for (int i = 0; i < 40; i++) {
-            Check.same("runner " + i, x.runner(0, i % 10, i * 2), i);
+            Check.same("runner " + i, x.runner(0, i % 10, 80 - i * 2), i);
         }
         Check.same("the 41st", x.runner(0, 0, 0), -1);
         Check.same("runners", x.count(3), 40);
@@ -172,9 +173,12 @@ public final class CoursesTest {
         Check.same("free", x.team(34, 35, 36), -1);
         Check.noSuch("no third", () -> x.team(0, 1, 37));
         Check.noSuch("no first", () -> x.team(-1, 1, 2));
+        Check.noSuch("no second", () -> x.team(0, 37, 2));
         for (int i = 0; i < 10; i++) {
             Check.same("team " + i, x.team(3 * i, 3 * i + 1, 3 * i + 2), i);
-            Check.same("in one", x.team(30, 31, 3 * i + 2), -1);
+            Check.same("first in one", x.team(3 * i, 30, 31), -1);
+            Check.same("second in one", x.team(30, 3 * i + 1, 31), -1);
+            Check.same("third in one", x.team(30, 31, 3 * i + 2), -1);
         }
         Check.same("the 11th", x.team(30, 31, 32), -1);
         Check.noSuch("the 11th of nobody", () -> x.team(30, 31, 40));

@@ -101,6 +101,14 @@ public final class DrawTest {
         Check.same("nothing told", x.count(5), 498);
         x.event(0, 1, 0, 0);
         Check.same("two for one left", x.draw(0, 1, 5), -1);
+        x.event(0, 0, 0, 0);
+        Check.same("none left", x.draw(0, 1, 5), -1);
+        MapRun full = clubs(0, 1, 2);
+        for (int i = 0; i < 497; i++) {
+            full.event(2, 0, 0, 0);
+        }
+        Check.same("just 500", full.draw(0, 1, 5), 3);
+        Check.same("nobody is left, and no room", full.draw(0, 1, 5), 0);
         MapRun y = clubs(3, 3, 4);
         y.go(3);
         Check.same("three", y.draw(0, 7, 5), 3);

@@ -82,6 +82,12 @@ public final class LandTest {
         Check.same("climb", x.way(0, 0, 1, 0), 7);
         x.course(true);
         Check.same("the gates", x.best(0, 0), 0);
+        x.takes(1, 9);
+        Check.same("ground 0 again", x.way(0, 0, 1, 0), 7);
+        x.land(3, 3);
+        x.wall(0, 0, 2, true);
+        x.land(3, 3);
+        Check.same("no wall below", x.way(0, 0, 0, 1), 5);
     }
 
     private static void cell() {

@@ -233,6 +233,10 @@ public final class RulesTest {
         fault("penalty unless 2;", 3, 8);
         fault("penalty not;", 1, 11);
         fault("penalty 1 > 2;", 1, 10);
+        fault("penalty 1 : 2;", 1, 10);
+        fault("penalty 1 ` 2;", 1, 10);
+        fault("penalty 1 { 2;", 1, 10);
+        fault("penalty 1 , 2;", 1, 10);
         fault("penalty 1\t;", 1, 9);
         fault("penalty 1 123456;", 1, 10);
         fault("set;", 1, 3);
@@ -253,6 +257,8 @@ public final class RulesTest {
         fault("set set 3;", 3, 4);
         fault("set gaps 3;", 3, 4);
         fault("penalty fog;", 3, 8);
+        fault("penalty azaz;", 3, 8);
+        fault("penalty z;", 3, 8);
         fault("penalty 1 + fog;", 3, 12);
         fault("penalty 1 + not 1;", 3, 12);
         fault("penalty 1 < not 1;", 3, 12);
