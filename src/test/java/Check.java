@@ -7,15 +7,21 @@ final class Check {
     static final long BAD_ARGUMENT = Long.MIN_VALUE + 2;
     private static int wrong = 0;
     private static int asked = 0;
+    private static String about = "";
 
     private Check() { }
+
+    /** What stands ahead of every answer that is not as due, from here on. */
+    static void about(String text) {
+        about = text;
+    }
 
     static void same(String what, long got, long due) {
         asked++;
         if (got != due) {
             wrong++;
             if (wrong <= 40) {
-                System.out.println(what + " answered " + name(got) + ", due is " + name(due));
+                System.out.println(about + what + " answered " + name(got) + ", due is " + name(due));
             }
         }
     }
@@ -81,6 +87,10 @@ final class Check {
 
     static int wrong() {
         return wrong;
+    }
+
+    static int asked() {
+        return asked;
     }
 
     static void end() {

@@ -1,0 +1,17 @@
+import java.io.IOException;
+import java.nio.file.Path;
+
+/** The document sentence by sentence: each has its own test, and none is left without one. */
+public final class EdgesTest {
+    public static void main(String[] args) throws IOException {
+        EdgesLand.all();
+        EdgesCourses.all();
+        EdgesTime.all();
+        EdgesRules.all();
+        EdgesState.all();
+        EdgesDraw.all();
+        EdgesBest.all();
+        Doc.allIsSaid(Path.of(System.getProperty("maprun.doc", "../shared/DOC.md")));
+        Check.end();
+    }
+}
