@@ -10,17 +10,6 @@ public final class BestTest {
         Check.end();
     }
 
-    private static MapRun line(int w, int... cellsAndPoints) {
-        MapRun x = new MapRun();
-        x.land(w, 1);
-        x.course(true);
-        for (int i = 0; i < cellsAndPoints.length; i += 2) {
-            int p = x.post(cellsAndPoints[i], 0, cellsAndPoints[i + 1]);
-            x.add(0, p, p, p);
-        }
-        return x;
-    }
-
     private static void due(MapRun x, int seconds, int points, int set, int took) {
         Check.same("best within " + seconds, x.best(0, seconds), points);
         Check.same("set within " + seconds, x.bestOf(0), set);
@@ -28,7 +17,7 @@ public final class BestTest {
     }
 
     private static void refused() {
-        MapRun x = line(5, 1, 10);
+        MapRun x = Make.freeLine(5, 0, 1, 10);
         x.course(false);
         Check.noSuch("none kept", () -> x.bestOf(0));
         Check.noSuch("none kept, seconds", () -> x.bestOf(1));
@@ -53,10 +42,10 @@ public final class BestTest {
     }
 
     private static void within() {
-        MapRun end = line(5, 1, 10, 4, 20);
+        MapRun end = Make.freeLine(5, 0, 1, 10, 4, 20);
         end.gates(0, 0, 4, 0);
         due(end, 20, 30, 3, 20);
-        MapRun x = line(9, 3, 10, 7, 30, 5, 5);
+        MapRun x = Make.freeLine(9, 0, 3, 10, 7, 30, 5, 5);
         x.gates(4, 0, 4, 0);
         due(x, 0, 0, 0, 0);
         due(x, 9, 0, 0, 0);
@@ -69,21 +58,21 @@ public final class BestTest {
     }
 
     private static void likeOnes() {
-        MapRun x = line(9, 6, 10, 3, 10, 5, 10);
+        MapRun x = Make.freeLine(9, 0, 6, 10, 3, 10, 5, 10);
         x.gates(4, 0, 4, 0);
         due(x, 15, 10, 2, 10);
-        MapRun y = line(9, 6, 10, 5, 10);
+        MapRun y = Make.freeLine(9, 0, 6, 10, 5, 10);
         y.gates(4, 0, 4, 0);
         due(y, 10, 10, 2, 10);
         due(y, 20, 20, 3, 20);
-        MapRun z = line(9, 4, 0, 5, 7, 4, 0, 4, 0);
+        MapRun z = Make.freeLine(9, 0, 4, 0, 5, 7, 4, 0, 4, 0);
         z.gates(4, 0, 4, 0);
         due(z, 99, 7, 2, 10);
         due(z, 5, 0, 0, 0);
     }
 
     private static void shutOff() {
-        MapRun x = line(5, 1, 10, 3, 20, 4, 30);
+        MapRun x = Make.freeLine(5, 0, 1, 10, 3, 20, 4, 30);
         x.takes(1, 0);
         x.cell(2, 0, 1, 0);
         due(x, 1000, 10, 1, 10);
@@ -96,7 +85,7 @@ public final class BestTest {
     }
 
     private static void samePostTwice() {
-        MapRun x = line(5, 1, 10, 3, 20);
+        MapRun x = Make.freeLine(5, 0, 1, 10, 3, 20);
         x.add(0, 0, 0, 0);
         due(x, 10, 20, 5, 10);
         due(x, 30, 40, 7, 30);
@@ -111,7 +100,7 @@ public final class BestTest {
             posts[2 * i + 1] = i + 1;
             sum += i + 1;
         }
-        MapRun x = line(20, posts);
+        MapRun x = Make.freeLine(20, 0, posts);
         due(x, 190, sum, 4095, 190);
         due(x, 189, sum - 1, 4094, 180);
         due(x, 80, 12, 1 << 11, 80);

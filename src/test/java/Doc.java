@@ -10,6 +10,7 @@ import java.util.regex.Pattern;
 
 /** The document's sentences: each is told ahead of the answers that hold it, so that none is left without any. */
 final class Doc {
+    static final Path FILE = Path.of(System.getProperty("maprun.doc", "../shared/DOC.md"));
     private static final Map<String, List<String>> SAID = new LinkedHashMap<>();
     private static String open = null;
     private static int askedThen = 0;
@@ -34,13 +35,13 @@ final class Doc {
     }
 
     /** Every word of the terms and promises has been told by some test, and no test tells others. */
-    static void allIsSaid(Path file) throws IOException {
+    static void allIsSaid() throws IOException {
         close();
-        if (!Files.isReadable(file)) {
-            System.out.println(file + " is not here: the tests' sentences are not held against it");
+        if (!Files.isReadable(FILE)) {
+            System.out.println(FILE + " is not here: the tests' sentences are not held against it");
             return;
         }
-        Map<String, String> parts = parts(Files.readString(file));
+        Map<String, String> parts = parts(Files.readString(FILE));
         for (String part : SAID.keySet()) {
             Check.yes("the document has a part " + part, parts.containsKey(part));
         }

@@ -14,22 +14,13 @@ public final class DrawTest {
         Check.end();
     }
 
-    private static MapRun clubs(int... clubs) {
-        MapRun x = new MapRun();
-        x.course(false);
-        for (int c : clubs) {
-            x.runner(0, c, 0);
-        }
-        return x;
-    }
-
     private static void refused() {
-        MapRun x = clubs(1, 1);
+        MapRun x = Make.clubs(1, 1);
         Check.same("one club", x.draw(0, 1, 0), -1);
         Check.noSuch("course 1", () -> x.draw(1, 1, 0));
         Check.noSuch("course -1", () -> x.draw(-1, 1, -1));
         Check.same("nothing told", x.count(5), 0);
-        MapRun y = clubs(1);
+        MapRun y = Make.clubs(1);
         y.go(5);
         Check.same("before now", y.draw(0, 1, 4), -1);
         Check.same("beyond", y.draw(0, 1, 100000), -1);
@@ -37,11 +28,11 @@ public final class DrawTest {
         Check.same("its start", y.judged(0, 1, 5), 99999);
         Check.same("nobody left", y.draw(0, 1, 5), 0);
         Check.same("nobody left, before now", y.draw(0, 1, 4), -1);
-        Check.same("of an empty course", clubs().draw(0, 1, 99999), 0);
+        Check.same("of an empty course", Make.clubs().draw(0, 1, 99999), 0);
     }
 
     private static void whoIsDrawn() {
-        MapRun x = clubs(0, 1, 2, 3, 4, 5);
+        MapRun x = Make.clubs(0, 1, 2, 3, 4, 5);
         x.course(false);
         x.runner(1, 6, 0);
         x.team(1, 2, 3);
@@ -59,12 +50,12 @@ public final class DrawTest {
     /** The shuffle told by hand: seed 0 makes 1442695040888963407, whose highest 31 bits are 167951807. */
     private static void order() {
         Check.same("the highest 31 bits", 1442695040888963407L >>> 33, 167951807L);
-        MapRun x = clubs(0, 1);
+        MapRun x = Make.clubs(0, 1);
         x.draw(0, 0, 0);
         // i 1: 167951807 modulo 2 is 1: nothing changes places
         Check.same("first", x.judged(0, 1, 0), 0);
         Check.same("second", x.judged(1, 1, 0), 60);
-        MapRun y = clubs(0, 1, 2);
+        MapRun y = Make.clubs(0, 1, 2);
         y.draw(0, 0, 0);
         // i 2: 167951807 modulo 3 is 2: nothing changes places; then the next one, modulo 2
         long next = 1442695040888963407L * 6364136223846793005L + 1442695040888963407L;
@@ -75,24 +66,24 @@ public final class DrawTest {
     }
 
     private static void gapAndEnd() {
-        MapRun x = clubs(0, 1, 2);
+        MapRun x = Make.clubs(0, 1, 2);
         Check.rules(x, "set gap 100;");
         Check.same("the last above the end", x.draw(0, 1, 99800), -1);
         Check.same("nothing told", x.count(5), 0);
         Check.same("the last at the end", x.draw(0, 1, 99799), 3);
-        MapRun y = clubs(0, 1, 2);
+        MapRun y = Make.clubs(0, 1, 2);
         Check.rules(y, "set gap 0;");
         y.draw(0, 1, 50);
         for (int i = 0; i < 3; i++) {
             Check.same("all at once", y.judged(i, 1, 0), 50);
         }
-        MapRun z = clubs(0, 1);
+        MapRun z = Make.clubs(0, 1);
         Check.rules(z, "set gap 99999;");
         Check.same("a wide gap", z.draw(0, 1, 0), 2);
     }
 
     private static void events() {
-        MapRun x = clubs(0, 1, 2);
+        MapRun x = Make.clubs(0, 1, 2);
         x.go(3);
         for (int i = 0; i < 498; i++) {
             x.event(2, 0, 0, 0);
@@ -103,13 +94,13 @@ public final class DrawTest {
         Check.same("two for one left", x.draw(0, 1, 5), -1);
         x.event(0, 0, 0, 0);
         Check.same("none left", x.draw(0, 1, 5), -1);
-        MapRun full = clubs(0, 1, 2);
+        MapRun full = Make.clubs(0, 1, 2);
         for (int i = 0; i < 497; i++) {
             full.event(2, 0, 0, 0);
         }
         Check.same("just 500", full.draw(0, 1, 5), 3);
         Check.same("nobody is left, and no room", full.draw(0, 1, 5), 0);
-        MapRun y = clubs(3, 3, 4);
+        MapRun y = Make.clubs(3, 3, 4);
         y.go(3);
         Check.same("three", y.draw(0, 7, 5), 3);
         Check.same("told now", y.judged(2, 1, 3), 65);
@@ -141,7 +132,7 @@ public final class DrawTest {
                 row.set(j, moved);
             }
             List<Integer> due = firstRow(row, clubs, -1);
-            MapRun x = clubs(clubs);
+            MapRun x = Make.clubs(clubs);
             Check.same("draw", x.draw(0, seed, 0), due == null ? -1 : due.size());
             for (int i = 0; due != null && i < due.size(); i++) {
                 Check.same("start of " + due.get(i), x.judged(due.get(i), 1, 0), 60 * i);

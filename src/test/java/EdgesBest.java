@@ -31,18 +31,6 @@ final class EdgesBest {
         countOfNothing();
     }
 
-    /** A line of cells; the free course 0 by posts of these points in these cells, from a cell and back to it. */
-    private static MapRun line(int w, int gate, int... cellsAndPoints) {
-        MapRun x = Make.land(w, 1);
-        x.gates(gate, 0, gate, 0);
-        x.course(true);
-        for (int i = 0; i < cellsAndPoints.length; i += 2) {
-            int p = x.post(cellsAndPoints[i], 0, cellsAndPoints[i + 1]);
-            x.add(0, p, p, p);
-        }
-        return x;
-    }
-
     private static void isBest(MapRun x, int seconds, int points, int set, int took) {
         Check.same("points within " + seconds, x.best(0, seconds), points);
         Check.same("set within " + seconds, x.bestOf(0), set);
@@ -51,14 +39,14 @@ final class EdgesBest {
 
     private static void within() {
         Doc.says(TERMS, "THE BEST of a FREE COURSE within so many SECONDS");
-        MapRun x = line(5, 0, 1, 10, 4, 50);
+        MapRun x = Make.freeLine(5, 0, 1, 10, 4, 50);
         isBest(x, 0, 0, 0, 0);
         isBest(x, 9, 0, 0, 0);
         isBest(x, 10, 10, 1, 10);
         isBest(x, 39, 10, 1, 10);
         isBest(x, 40, 60, 3, 40);
         isBest(x, Integer.MAX_VALUE, 60, 3, 40);
-        MapRun through = line(5, 0, 1, 10);
+        MapRun through = Make.freeLine(5, 0, 1, 10);
         through.gates(0, 0, 4, 0);
         Check.same("less than the straight way", through.best(0, 19), -1);
         isBest(through, 20, 10, 1, 20);
@@ -66,26 +54,26 @@ final class EdgesBest {
 
     private static void sets() {
         Doc.says(TERMS, "of all sets of its POSTS (its places)");
-        MapRun x = line(5, 0, 1, 10, 3, 20);
+        MapRun x = Make.freeLine(5, 0, 1, 10, 3, 20);
         x.add(0, 0, 0, 0);
         isBest(x, 10, 20, 5, 10);
         isBest(x, 30, 40, 7, 30);
         x.post(0, 0, 99);
         isBest(x, 30, 40, 7, 30);
-        isBest(line(3, 0), 7, 0, 0, 0);
+        isBest(Make.freeLine(3, 0), 7, 0, 0, 0);
         int[] twelve = new int[24];
         for (int i = 0; i < 12; i++) {
             twelve[2 * i] = i + 1;
             twelve[2 * i + 1] = 99;
         }
-        MapRun all = line(13, 0, twelve);
+        MapRun all = Make.freeLine(13, 0, twelve);
         isBest(all, 120, 12 * 99, 4095, 120);
         isBest(all, 119, 11 * 99, 2047, 110);
     }
 
     private static void goneThrough() {
         Doc.says(TERMS, "that can be gone through from THE START to THE FINISH by LEAST WAYS");
-        MapRun x = line(6, 0, 1, 10, 3, 20, 5, 30);
+        MapRun x = Make.freeLine(6, 0, 1, 10, 3, 20, 5, 30);
         x.gates(2, 0, 4, 0);
         isBest(x, 10, 20, 2, 10);
         isBest(x, 20, 50, 6, 20);
@@ -102,7 +90,7 @@ final class EdgesBest {
         Check.same("no way at all", x.best(0, 1000), -1);
         x.gates(4, 0, 2, 0);
         isBest(x, 1000, 30, 3, 13 + 5 + 5 + 5);
-        MapRun back = line(9, 8, 1, 10, 5, 20);
+        MapRun back = Make.freeLine(9, 8, 1, 10, 5, 20);
         back.gates(8, 0, 2, 0);
         isBest(back, 40, 30, 3, 40);
         isBest(back, 39, 20, 2, 30);
@@ -110,73 +98,54 @@ final class EdgesBest {
 
     private static void inSomeOrder() {
         Doc.says(TERMS, "in some order, within them");
-        MapRun x = line(9, 4, 7, 1, 2, 1, 6, 1, 3, 1);
+        MapRun x = Make.freeLine(9, 4, 7, 1, 2, 1, 6, 1, 3, 1);
         isBest(x, 50, 4, 15, 50);
         isBest(x, 49, 3, 13, 40);
-        MapRun up = line(4, 0, 3, 5, 1, 5, 2, 5);
+        MapRun up = Make.freeLine(4, 0, 3, 5, 1, 5, 2, 5);
         up.cell(2, 0, 0, 3);
         isBest(up, 30 + 6 + 6, 15, 7, 42);
         isBest(up, 41, 10, 6, 26);
-        MapRun near = line(7, 0, 5, 1, 1, 1, 6, 1);
+        MapRun near = Make.freeLine(7, 0, 5, 1, 1, 1, 6, 1);
         near.gates(0, 0, 6, 0);
         isBest(near, 30, 3, 7, 30);
-        MapRun last = line(7, 0, 6, 1, 5, 1, 1, 1);
+        MapRun last = Make.freeLine(7, 0, 6, 1, 5, 1, 1, 1);
         last.gates(0, 0, 6, 0);
         isBest(last, 30, 3, 7, 30);
     }
 
     private static void mostPoints() {
         Doc.says(TERMS, "greatest sum of POINTS");
-        MapRun x = line(9, 4, 3, 10, 2, 1, 5, 6, 6, 6);
+        MapRun x = Make.freeLine(9, 4, 3, 10, 2, 1, 5, 6, 6, 6);
         isBest(x, 20, 16, 5, 20);
         isBest(x, 29, 16, 5, 20);
         isBest(x, 30, 22, 13, 30);
-        MapRun near = line(9, 4, 3, 98, 5, 99);
+        MapRun near = Make.freeLine(9, 4, 3, 98, 5, 99);
         isBest(near, 10, 99, 2, 10);
     }
 
     private static void fewestSeconds() {
         Doc.says(TERMS, "of like ones fewest SECONDS");
-        isBest(line(9, 4, 7, 10, 3, 10), 30, 10, 2, 10);
-        isBest(line(9, 4, 5, 10, 1, 10), 30, 10, 1, 10);
-        isBest(line(9, 4, 6, 5, 7, 5, 2, 10), 30, 10, 4, 20);
-        isBest(line(9, 4, 5, 0, 6, 7), 5, 0, 0, 0);
-        isBest(line(9, 4, 5, 0), 99, 0, 0, 0);
-        isBest(line(9, 4, 5, 0, 3, 7), 99, 7, 2, 10);
+        isBest(Make.freeLine(9, 4, 7, 10, 3, 10), 30, 10, 2, 10);
+        isBest(Make.freeLine(9, 4, 5, 10, 1, 10), 30, 10, 1, 10);
+        isBest(Make.freeLine(9, 4, 6, 5, 7, 5, 2, 10), 30, 10, 4, 20);
+        isBest(Make.freeLine(9, 4, 5, 0, 6, 7), 5, 0, 0, 0);
+        isBest(Make.freeLine(9, 4, 5, 0), 99, 0, 0, 0);
+        isBest(Make.freeLine(9, 4, 5, 0, 3, 7), 99, 7, 2, 10);
     }
 
     private static void lesserNumber() {
         Doc.says(TERMS, "of like ones the lesser number of bits.");
-        isBest(line(9, 4, 3, 10, 5, 10), 10, 10, 1, 10);
-        isBest(line(9, 4, 5, 10, 3, 10, 5, 10), 10, 20, 5, 10);
-        isBest(line(9, 4, 4, 0, 5, 7, 4, 0), 99, 7, 2, 10);
-        isBest(line(9, 4, 4, 0), 99, 0, 0, 0);
-        isBest(line(9, 4, 5, 4, 5, 6, 3, 10), 10, 10, 3, 10);
-    }
-
-    /** Three by three: a wall right of the start in the corner, (2, 2) barred, the middle three up; finish (1, 0). */
-    private static MapRun square(int... cells) {
-        MapRun x = Make.land(3, 3);
-        x.takes(1, 0);
-        x.cell(2, 2, 1, 0);
-        x.cell(1, 1, 0, 3);
-        x.wall(0, 0, 1, true);
-        x.wall(2, 0, 2, true);
-        x.gates(0, 0, 1, 0);
-        x.course(false);
-        for (int c : cells) {
-            int p = x.post(c % 10, c / 10, 0);
-            x.add(0, p, p, p);
-        }
-        x.runner(0, 0, 0);
-        x.runner(0, 0, 0);
-        return x;
+        isBest(Make.freeLine(9, 4, 3, 10, 5, 10), 10, 10, 1, 10);
+        isBest(Make.freeLine(9, 4, 5, 10, 3, 10, 5, 10), 10, 20, 5, 10);
+        isBest(Make.freeLine(9, 4, 4, 0, 5, 7, 4, 0), 99, 7, 2, 10);
+        isBest(Make.freeLine(9, 4, 4, 0), 99, 0, 0, 0);
+        isBest(Make.freeLine(9, 4, 5, 4, 5, 6, 3, 10), 10, 10, 3, 10);
     }
 
     private static void trackText() {
         Doc.says(TERMS, "TRACK of a RUNNER: a text of u r d l (MOVES 0 to 3; blanks, 32 and 10, count for nothing) from "
                 + "THE START");
-        MapRun x = square();
+        MapRun x = Make.square();
         Check.same("down, right, up, left is a wall", Check.track(x, 0, "drul"), -3);
         Check.same("all four", Check.track(x, 0, "drurldlu"), 5 + 11 + 5 + 5 + 5 + 11 + 5 + 5);
         Check.same("blanks", Check.track(x, 0, "\n d \n\nr  u"), 5 + 11 + 5);
@@ -185,16 +154,17 @@ final class EdgesBest {
     }
 
     private static void trackFaults() {
-        MapRun x = square();
         Doc.says(TERMS, "FAULT 1 a sign that is none");
         for (char sign = 0; sign < 256; sign++) {
             boolean isMove = sign == 'u' || sign == 'r' || sign == 'd' || sign == 'l';
             if (!isMove && sign != 32 && sign != 10) {
+                MapRun x = Make.square();
                 Check.same("sign " + (int) sign, Check.track(x, 0, "d" + sign), -2);
                 Check.same("its byte", x.fault(), 1);
             }
         }
         Doc.says(TERMS, "2 a MOVE that can't be made, at its byte");
+        MapRun x = Make.square();
         String[] texts = {"u", "l", "r", " d l", "dddd", "ddrr", "druru", "drrd", "drur d", "drurrx", "ddr?"};
         int[] due = {-3, -3, -3, -3, -3, -3, -3, -3, -3, -3, -2};
         int[] at = {0, 0, 0, 3, 2, 3, 4, 3, 5, 4, 3};
@@ -206,7 +176,7 @@ final class EdgesBest {
 
     private static void trackSeconds() {
         Doc.says(TERMS, "else its SECONDS.");
-        MapRun x = square();
+        MapRun x = Make.square();
         Check.same("with climb", Check.track(x, 0, "dr"), 5 + 5 + 6);
         Check.same("none down", Check.track(x, 0, "drl"), 16 + 5);
         Check.same("there and back", Check.track(x, 0, "dudu"), 20);
@@ -219,7 +189,7 @@ final class EdgesBest {
 
     private static void lostSeconds() {
         Doc.says(TERMS, "LOST: these less LENGTH of its ROW");
-        MapRun x = square(20);
+        MapRun x = Make.square(20);
         Check.same("length", x.row(0, 100), 10 + 5 + 11 + 5);
         Check.track(x, 0, "ddruu");
         Check.same("none lost", x.lost(0), 0);
@@ -231,7 +201,7 @@ final class EdgesBest {
 
     private static void lostAtTheFinish() {
         Doc.says(TERMS, "if it ends at THE FINISH");
-        MapRun x = square();
+        MapRun x = Make.square();
         Check.track(x, 0, "dru");
         Check.same("it does", x.lost(0), 0);
         Check.track(x, 0, "drur");
@@ -246,7 +216,7 @@ final class EdgesBest {
 
     private static void lostInOrder() {
         Doc.says(TERMS, "and comes by the CELLS of its ROW in order");
-        MapRun x = square(20, 10);
+        MapRun x = Make.square(20, 10);
         Check.track(x, 0, "ddudruu");
         Check.same("2 down, then 1", x.lost(0), 10);
         Check.track(x, 0, "dru");
@@ -303,7 +273,7 @@ final class EdgesBest {
 
     private static void best() {
         Doc.says("Promise 28", "THE BEST of a FREE COURSE: the sum of POINTS; its set is kept.");
-        MapRun x = line(5, 0, 1, 10, 2, 30);
+        MapRun x = Make.freeLine(5, 0, 1, 10, 2, 30);
         Check.same("both", x.best(0, 20), 40);
         Check.same("kept", x.bestOf(0), 3);
         x.add(0, 1, 1, 1);
@@ -316,7 +286,7 @@ final class EdgesBest {
     }
 
     private static void bestRefused() {
-        MapRun x = line(5, 0, 1, 10);
+        MapRun x = Make.freeLine(5, 0, 1, 10);
         x.course(false);
         x.best(0, 10);
         Doc.says("Promise 28", "NONE: it is IN ORDER");
@@ -336,11 +306,11 @@ final class EdgesBest {
         Check.badArgument("least", () -> x.best(0, Integer.MIN_VALUE));
         Check.badArgument("in order", () -> x.best(1, -1));
         Check.same("what was kept stays", x.bestOf(1), 20);
-        Check.same("0 is fine", line(2, 0).best(0, 0), 0);
+        Check.same("0 is fine", Make.freeLine(2, 0).best(0, 0), 0);
     }
 
     private static void bestOf() {
-        MapRun x = line(5, 0, 1, 10, 2, 30);
+        MapRun x = Make.freeLine(5, 0, 1, 10, 2, 30);
         x.best(0, 25);
         Doc.says("Promise 29", "Of THE BEST that is kept: 0 the set as bits");
         Check.same("places 0 and 1", x.bestOf(0), 3);
@@ -352,7 +322,7 @@ final class EdgesBest {
             Check.noSuch("what " + what, () -> x.bestOf(what));
         }
         Doc.says("Promise 29", "or none is kept.");
-        MapRun y = line(5, 0);
+        MapRun y = Make.freeLine(5, 0);
         Check.noSuch("no set", () -> y.bestOf(0));
         Check.noSuch("no seconds", () -> y.bestOf(1));
         Check.noSuch("nor in a new object", () -> new MapRun().bestOf(0));
@@ -365,7 +335,7 @@ final class EdgesBest {
 
     private static void track() {
         Doc.says("Promise 30", "A TRACK, the tape's first n bytes (it is empty then): its SECONDS");
-        MapRun x = square();
+        MapRun x = Make.square();
         Check.feed(x, "dru????");
         Check.same("the first three", x.track(0, 3), 21);
         Check.same("empty", x.count(7), 0);
@@ -381,7 +351,7 @@ final class EdgesBest {
 
     private static void trackOfBytes() {
         Doc.says("Promise 30", "IllegalArgumentException likewise.");
-        MapRun x = square();
+        MapRun x = Make.square();
         Check.track(x, 0, "dru");
         Check.track(x, 0, " x");
         Check.badArgument("1 of none", () -> x.track(0, 1));
@@ -399,7 +369,7 @@ final class EdgesBest {
 
     private static void lost() {
         Doc.says("Promise 31", "LOST by the latest TRACK without a FAULT of a RUNNER");
-        MapRun x = square();
+        MapRun x = Make.square();
         Check.track(x, 0, "drurl");
         Check.track(x, 1, "dru");
         Check.same("its own", x.lost(0), 10);
@@ -416,7 +386,7 @@ final class EdgesBest {
 
     private static void lostNone() {
         Doc.says("Promise 31", "-100000: there is none");
-        MapRun x = square(20);
+        MapRun x = Make.square(20);
         Check.same("no track", x.lost(0), -100000);
         Check.track(x, 0, "x");
         Check.same("one with a fault alone", x.lost(0), -100000);

@@ -28,15 +28,6 @@ final class EdgesDraw {
         refusedSecond();
     }
 
-    private static MapRun clubs(int... clubs) {
-        MapRun x = new MapRun();
-        x.course(false);
-        for (int c : clubs) {
-            x.runner(0, c, 0);
-        }
-        return x;
-    }
-
     /** The row that a seed makes of 0 to n - 1, told again with whole numbers that do not wrap by themselves. */
     private static List<Integer> shuffled(int n, long seed) {
         BigInteger all = BigInteger.ONE.shiftLeft(64);
@@ -71,7 +62,7 @@ final class EdgesDraw {
 
     private static void ofACourse() {
         Doc.says(TERMS, "THE DRAW of a COURSE by a SEED (a long), from a second on");
-        MapRun x = clubs(0, 1, 2);
+        MapRun x = Make.clubs(0, 1, 2);
         x.course(true);
         x.runner(1, 0, 0);
         x.runner(1, 1, 0);
@@ -87,7 +78,7 @@ final class EdgesDraw {
 
     private static void withoutAStart() {
         Doc.says(TERMS, "all its RUNNERS that have no START told (as known NOW)");
-        MapRun x = clubs(0, 1, 2, 3);
+        MapRun x = Make.clubs(0, 1, 2, 3);
         x.event(0, 0, 0, 500);
         x.event(0, 1, 0, 500);
         x.event(2, 2, 0, 0);
@@ -103,7 +94,7 @@ final class EdgesDraw {
 
     private static void notBehindInATeam() {
         Doc.says(TERMS, "and are not second or third of a TEAM");
-        MapRun x = clubs(0, 1, 2, 3);
+        MapRun x = Make.clubs(0, 1, 2, 3);
         x.team(2, 0, 1);
         Check.same("the first and one in none", x.draw(0, 3, 10), 2);
         Check.same("the second", x.judged(0, 1, 0), -1);
@@ -144,7 +135,7 @@ final class EdgesDraw {
     private static void highestBits() {
         Doc.says(TERMS, "its highest 31 bits, as a whole number, modulo i + 1 is j: what is at i and at j change places.");
         // seed 0 makes 1442695040888963407, whose highest 31 bits are 167951807, an odd number: 0 and 1 stay
-        MapRun stays = clubs(0, 1);
+        MapRun stays = Make.clubs(0, 1);
         stays.draw(0, 0, 0);
         Check.same("0 first", stays.judged(0, 1, 0), 0);
         boolean high = false;
@@ -153,7 +144,7 @@ final class EdgesDraw {
             long next = seed * 6364136223846793005L + 1442695040888963407L;
             high |= next < 0;
             low |= next >= 0;
-            MapRun x = clubs(0, 1);
+            MapRun x = Make.clubs(0, 1);
             x.draw(0, seed, 0);
             boolean odd = (next >> 33 & 1) == 1;
             Check.same("0 with seed " + seed, x.judged(0, 1, 0), odd ? 0 : 60);
@@ -168,7 +159,7 @@ final class EdgesDraw {
                 + "the one's ahead");
         for (long seed = 0; seed < 20; seed++) {
             int[] clubs = {0, 0, 1, 2, 3};
-            MapRun x = clubs(clubs);
+            MapRun x = Make.clubs(clubs);
             x.draw(0, seed, 0);
             List<Integer> row = shuffled(5, seed);
             List<Integer> due = new ArrayList<>();
@@ -199,13 +190,13 @@ final class EdgesDraw {
     private static void othersCanFollow() {
         Doc.says(TERMS, "so that the others can follow so that none follows one of its own CLUB.");
         for (long seed = 0; seed < 10; seed++) {
-            MapRun x = clubs(4, 5, 4, 6, 4);
+            MapRun x = Make.clubs(4, 5, 4, 6, 4);
             Check.same("three of five", x.draw(0, seed, 0), 5);
             Check.same("of one club, first, third and last", x.judged(0, 1, 0) + x.judged(2, 1, 0) + x.judged(4, 1, 0),
                     360);
             Check.yes("none of them second", x.judged(0, 1, 0) % 120 == 0 && x.judged(2, 1, 0) % 120 == 0);
         }
-        MapRun two = clubs(1, 1, 1, 2, 2, 2);
+        MapRun two = Make.clubs(1, 1, 1, 2, 2, 2);
         Check.same("two clubs in turn", two.draw(0, 8, 0), 6);
         int first = two.judged(0, 1, 0) / 60 % 2;
         for (int i = 0; i < 6; i++) {
@@ -217,14 +208,14 @@ final class EdgesDraw {
         Doc.says(TERMS, "If there is no such row at all, none is drawn.");
         int[][] none = {{1, 1}, {1, 1, 1, 2}, {3, 3, 3, 1, 2, 3, 3, 3}, {0, 0, 0, 0, 1, 2}};
         for (int[] clubs : none) {
-            MapRun x = clubs(clubs);
+            MapRun x = Make.clubs(clubs);
             Check.same("no row of " + clubs.length, x.draw(0, 4, 0), -1);
             for (int i = 0; i < clubs.length; i++) {
                 Check.same("none is drawn, " + i, x.judged(i, 1, 0), -1);
             }
         }
-        Check.same("forty of one club", clubs(new int[40]).draw(0, 4, 0), -1);
-        MapRun other = clubs(0, 1, 2, 3);
+        Check.same("forty of one club", Make.clubs(new int[40]).draw(0, 4, 0), -1);
+        MapRun other = Make.clubs(0, 1, 2, 3);
         other.draw(0, 4, 0);
         other.course(false);
         other.runner(1, 5, 0);
@@ -232,7 +223,7 @@ final class EdgesDraw {
         Check.same("those of another course don't fill the row", other.draw(1, 4, 0), -1);
         int[][] just = {{1}, {1, 1, 2}, {3, 3, 1, 2, 3}, {0, 0, 0, 1, 2}, {0, 0, 1, 1}};
         for (int[] clubs : just) {
-            Check.same("a row of " + clubs.length, clubs(clubs).draw(0, 4, 0), clubs.length);
+            Check.same("a row of " + clubs.length, Make.clubs(clubs).draw(0, 4, 0), clubs.length);
         }
     }
 
@@ -285,7 +276,7 @@ final class EdgesDraw {
 
     private static void refusedRow() {
         Doc.says("Promise 27", "NONE, and nothing changes: no such row");
-        MapRun x = clubs(1, 1, 1, 2);
+        MapRun x = Make.clubs(1, 1, 1, 2);
         x.event(0, 3, 0, 5);
         Check.same("three of one club", x.draw(0, 1, 0), -1);
         Check.same("no event came", x.count(5), 1);
@@ -307,7 +298,7 @@ final class EdgesDraw {
         MapRun wide = Make.runners(40);
         Check.rules(wide, "set gap 99999;");
         Check.same("far above", wide.draw(0, 1, 99999), -1);
-        Check.same("nobody is never too late", clubs().draw(0, 1, 99999), 0);
+        Check.same("nobody is never too late", Make.clubs().draw(0, 1, 99999), 0);
     }
 
     private static void refusedEvents() {

@@ -44,28 +44,9 @@ final class EdgesRules {
         fault();
     }
 
-    /** A runner of club 7, in order by three posts of 4 points: one kept, one punch wrong, from 10 to 40. */
-    private static MapRun runner() {
-        MapRun x = new MapRun();
-        for (int i = 0; i < 4; i++) {
-            x.post(0, 0, 4);
-        }
-        x.course(false);
-        for (int i = 0; i < 3; i++) {
-            x.add(0, i, i, i);
-        }
-        x.runner(0, 7, 0);
-        x.go(40);
-        x.event(0, 0, 0, 10);
-        x.event(1, 0, 0, 20);
-        x.event(1, 0, 3, 20);
-        x.event(2, 0, 0, 40);
-        return x;
-    }
-
-    /** What that runner's penalty is by a text. */
+    /** What the penalty of a runner that is judged by rules is by a text. */
     private static void comesTo(String text, int due) {
-        MapRun x = runner();
+        MapRun x = Make.judgedByRules();
         Check.same(text + " read", Check.rules(x, text), 0);
         Check.same(text, x.judged(0, 6, 40), due);
     }
@@ -106,7 +87,7 @@ final class EdgesRules {
 
     private static void theLatestCounts() {
         Doc.says(TERMS, "the latest that was told counts, whenever it is asked of.");
-        MapRun x = runner();
+        MapRun x = Make.judgedByRules();
         Check.rules(x, "penalty 3;");
         Check.same("of now", x.judged(0, 6, 40), 3);
         x.go(5);
@@ -638,7 +619,7 @@ final class EdgesRules {
 
     private static void rules() {
         Doc.says("Promise 23", "The tape's first n bytes (it is empty then) are RULES: 0");
-        MapRun x = runner();
+        MapRun x = Make.judgedByRules();
         Check.feed(x, "penalty 5; penalty 6; ????");
         Check.same("the first ten", x.rules(10), 0);
         Check.same("no more of them", x.judged(0, 6, 40), 5);
@@ -655,7 +636,7 @@ final class EdgesRules {
 
     private static void rulesRefused() {
         Doc.says("Promise 23", "IllegalArgumentException: the tape has not so many");
-        MapRun x = runner();
+        MapRun x = Make.judgedByRules();
         Check.rules(x, "penalty 5;");
         Check.rules(x, "  ?");
         Check.badArgument("1 of none", () -> x.rules(1));
@@ -676,7 +657,7 @@ final class EdgesRules {
 
     private static void fault() {
         Doc.says("Promise 24", "The place of the latest rules()'s or track()'s FAULT");
-        MapRun x = runner();
+        MapRun x = Make.judgedByRules();
         Check.rules(x, "   ?");
         Check.same("of rules", x.fault(), 3);
         Check.same("asked again", x.fault(), 3);

@@ -1,5 +1,4 @@
 import java.io.IOException;
-import java.nio.file.Path;
 
 /** The document sentence by sentence: each has its own test, and none is left without one. */
 public final class EdgesTest {
@@ -11,7 +10,7 @@ public final class EdgesTest {
         EdgesState.all();
         EdgesDraw.all();
         EdgesBest.all();
-        Doc.allIsSaid(Path.of(System.getProperty("maprun.doc", "../shared/DOC.md")));
+        Doc.allIsSaid();
         Check.end();
     }
 }

@@ -30,6 +30,7 @@ final class EdgesTime {
         run();
         go();
         event();
+        noMoreEvents();
         back();
         judged();
         judgedWithoutAnything();
@@ -489,12 +490,18 @@ final class EdgesTime {
             Check.noSuch("kind " + kind, () -> x.event(kind, 0, 0, 0));
         }
         Check.same("none came", x.count(5), 8);
+    }
+
+    private static void noMoreEvents() {
         Doc.says("Promise 17", "NONE: there are 500");
-        for (int i = 8; i < 500; i++) {
-            x.event(2, 0, 0, 1);
+        MapRun x = Make.runners(1);
+        for (int i = 0; i < 500; i++) {
+            x.event(2, 0, 0, 0);
         }
         Check.same("500", x.count(5), 500);
         Check.same("no more", x.event(0, 0, 0, 0), -1);
+        Check.same("none came", x.count(5), 500);
+        Check.same("none is known", x.judged(0, 1, 0), -1);
     }
 
     private static void back() {

@@ -3,6 +3,7 @@ public final class JudgedTest {
     public static void main(String[] args) {
         go();
         event();
+        mostEvents();
         back();
         states();
         asKnown();
@@ -16,25 +17,6 @@ public final class JudgedTest {
         ofTeam();
         wrongQuestions();
         Check.end();
-    }
-
-    /** One cell, posts worth 1, 2, 4, 8, 16, a course in order by these. */
-    private static MapRun course(boolean free, int... row) {
-        MapRun x = new MapRun();
-        for (int i = 0; i < 5; i++) {
-            x.post(0, 0, 1 << i);
-        }
-        x.course(free);
-        for (int p : row) {
-            x.add(0, p, p, p);
-        }
-        return x;
-    }
-
-    private static void punch(MapRun x, int runner, int... postsAndTimes) {
-        for (int i = 0; i < postsAndTimes.length; i += 2) {
-            x.event(1, runner, postsAndTimes[i], postsAndTimes[i + 1]);
-        }
     }
 
     private static void go() {
@@ -52,7 +34,7 @@ public final class JudgedTest {
     }
 
     private static void event() {
-        MapRun x = course(false, 0);
+        MapRun x = Make.course(false, 0);
         x.runner(0, 0, 0);
         x.go(10);
         Check.same("start later", x.event(0, 0, -5, 99999), 0);
@@ -68,16 +50,20 @@ public final class JudgedTest {
         Check.noSuch("runner", () -> x.event(0, 1, 0, 0));
         Check.noSuch("post", () -> x.event(1, 0, 5, 0));
         Check.noSuch("post, later", () -> x.event(1, 0, -1, 11));
-        for (int i = 3; i < 500; i++) {
+        Check.same("events", x.count(5), 3);
+    }
+
+    private static void mostEvents() {
+        MapRun x = Make.race(false);
+        for (int i = 1; i < 500; i++) {
             Check.same("event " + i, x.event(i % 3, 0, 0, 0), i);
         }
         Check.same("the 501st", x.event(0, 0, 0, 0), -1);
         Check.noSuch("the 501st of nobody", () -> x.event(0, 1, 0, 0));
-        Check.same("events", x.count(5), 500);
     }
 
     private static void back() {
-        MapRun x = course(false, 0);
+        MapRun x = Make.course(false, 0);
         x.runner(0, 0, 0);
         Check.noSuch("none yet", () -> Check.of(x.back(0)));
         x.event(0, 0, 0, 0);
@@ -92,7 +78,7 @@ public final class JudgedTest {
     }
 
     private static void states() {
-        MapRun x = course(false, 0);
+        MapRun x = Make.course(false, 0);
         x.runner(0, 0, 0);
         Check.same("waits", x.judged(0, 0, 0), 0);
         Check.same("no start", x.judged(0, 1, 0), -1);
@@ -127,7 +113,7 @@ public final class JudgedTest {
     }
 
     private static void asKnown() {
-        MapRun x = course(false, 0);
+        MapRun x = Make.course(false, 0);
         x.runner(0, 0, 0);
         x.event(0, 0, 0, 0);
         x.go(10);
@@ -147,11 +133,11 @@ public final class JudgedTest {
     }
 
     private static void kept() {
-        MapRun x = course(false, 0, 1, 2, 3);
+        MapRun x = Make.course(false, 0, 1, 2, 3);
         x.runner(0, 0, 0);
         x.go(100);
         x.event(0, 0, 0, 10);
-        punch(x, 0, 0, 20, 2, 30, 1, 40, 3, 50, 4, 60, 4, 70);
+        Make.punch(x, 0, 0, 20, 2, 30, 1, 40, 3, 50, 4, 60, 4, 70);
         Check.same("one missed", x.judged(0, 3, 100), 1);
         Check.same("two wrong", x.judged(0, 4, 100), 2);
         Check.same("score", x.judged(0, 5, 100), 1 + 2 + 8);
@@ -170,26 +156,26 @@ public final class JudgedTest {
     }
 
     private static void keptFirstRow() {
-        MapRun x = course(false, 0, 1, 0, 1);
+        MapRun x = Make.course(false, 0, 1, 0, 1);
         x.runner(0, 0, 0);
         x.go(100);
         x.event(0, 0, 0, 0);
-        punch(x, 0, 1, 10, 0, 20);
+        Make.punch(x, 0, 1, 10, 0, 20);
         // one of each punch: places 1 and 2 are the only row of two
         Check.same("split 0", x.split(0, 0, 100), -1);
         Check.same("split 1", x.split(0, 1, 100), 10);
         Check.same("split 2", x.split(0, 2, 100), 20);
         Check.same("split 3", x.split(0, 3, 100), -1);
-        punch(x, 0, 1, 30);
+        Make.punch(x, 0, 1, 30);
         // now 1 0 1: places 1, 2, 3
         Check.same("three", x.judged(0, 3, 100), 1);
-        punch(x, 0, 0, 5);
+        Make.punch(x, 0, 0, 5);
         Check.same("all", x.judged(0, 3, 100), 0);
         Check.same("the second 0 by another punch", x.split(0, 2, 100), 20);
-        MapRun y = course(false, 0, 0, 0);
+        MapRun y = Make.course(false, 0, 0, 0);
         y.runner(0, 0, 0);
         y.event(0, 0, 0, 0);
-        punch(y, 0, 0, 0);
+        Make.punch(y, 0, 0, 0);
         Check.same("one punch keeps the first place", y.split(0, 0, 0), 0);
         Check.same("and that alone", y.judged(0, 3, 0), 2);
         Check.same("its score once", y.judged(0, 5, 0), 1);
@@ -197,26 +183,26 @@ public final class JudgedTest {
     }
 
     private static void keptByTimeThenNumber() {
-        MapRun x = course(false, 0, 1);
+        MapRun x = Make.course(false, 0, 1);
         x.runner(0, 0, 0);
         x.runner(0, 0, 0);
         x.go(50);
-        punch(x, 0, 1, 20, 0, 20);
+        Make.punch(x, 0, 1, 20, 0, 20);
         Check.same("of like t by number", x.judged(0, 3, 50), 1);
-        punch(x, 1, 1, 21, 0, 20);
+        Make.punch(x, 1, 1, 21, 0, 20);
         Check.same("by t", x.judged(1, 3, 50), 0);
         x.event(0, 0, 0, 0);
-        punch(x, 0, 1, 20);
+        Make.punch(x, 0, 1, 20);
         Check.same("a third of like t", x.judged(0, 3, 50), 0);
         Check.same("split", x.split(0, 1, 50), 20);
     }
 
     private static void free() {
-        MapRun x = course(true, 3, 0, 3);
+        MapRun x = Make.course(true, 3, 0, 3);
         x.runner(0, 0, 0);
         x.go(50);
         x.event(0, 0, 0, 10);
-        punch(x, 0, 3, 30, 3, 20, 1, 25);
+        Make.punch(x, 0, 3, 30, 3, 20, 1, 25);
         Check.same("none missed", x.judged(0, 3, 50), 0);
         Check.same("wrong", x.judged(0, 4, 50), 1);
         Check.same("each place once", x.judged(0, 5, 50), 16);
@@ -231,7 +217,7 @@ public final class JudgedTest {
     }
 
     private static void places() {
-        MapRun x = course(false);
+        MapRun x = Make.course(false);
         x.course(false);
         x.go(100);
         int[] runs = {50, 40, 50, 60};
@@ -257,7 +243,7 @@ public final class JudgedTest {
     }
 
     private static void placesFree() {
-        MapRun x = course(true, 0, 1, 2);
+        MapRun x = Make.course(true, 0, 1, 2);
         x.go(100);
         int[] runs = {50, 40, 50, 60, 10};
         int[] posts = {2, 2, 2, -1, 1};
@@ -266,7 +252,7 @@ public final class JudgedTest {
             x.event(0, i, 0, 10);
             x.event(2, i, 0, 10 + runs[i]);
             if (posts[i] >= 0) {
-                punch(x, i, posts[i], 20);
+                Make.punch(x, i, posts[i], 20);
             }
         }
         int[] due = {2, 1, 2, 5, 4};
@@ -276,7 +262,7 @@ public final class JudgedTest {
     }
 
     private static void teamStarts() {
-        MapRun x = course(false);
+        MapRun x = Make.course(false);
         for (int i = 0; i < 3; i++) {
             x.runner(0, 0, 0);
         }
@@ -299,7 +285,7 @@ public final class JudgedTest {
     }
 
     private static void ofTeam() {
-        MapRun x = course(false);
+        MapRun x = Make.course(false);
         x.course(false);
         for (int i = 0; i < 12; i++) {
             x.runner(i < 9 ? 0 : 1, i % 3, 0);
@@ -345,7 +331,7 @@ public final class JudgedTest {
     }
 
     private static void wrongQuestions() {
-        MapRun x = course(false, 0);
+        MapRun x = Make.course(false, 0);
         x.runner(0, 0, 0);
         x.go(5);
         Check.noSuch("what 9", () -> x.judged(0, 9, 0));

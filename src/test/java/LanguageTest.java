@@ -20,6 +20,7 @@ public final class LanguageTest {
     public static void main(String[] args) throws IOException {
         String source = Files.readString(Path.of(System.getProperty("maprun.source", "src/main/java/MapRun.java")));
         face();
+        faceAsInTheDocument();
         String code = source.replaceAll("(?s)/\\*.*?\\*/", "").replaceAll("//[^\n]*", "");
         for (String out : RULED_OUT) {
             Matcher m = Pattern.compile(out).matcher(code);
@@ -63,6 +64,42 @@ public final class LanguageTest {
         for (String name : names) {
             Check.no("also a method of its own: " + name, hidden.contains(name));
         }
+    }
+
+    /** Every method as the document writes it: what it takes, what it answers, what it throws. */
+    private static void faceAsInTheDocument() throws IOException {
+        if (!Files.isReadable(Doc.FILE)) {
+            System.out.println(Doc.FILE + " is not here: the face is not held against it");
+            return;
+        }
+        String text = Files.readString(Doc.FILE).replace("\r", "");
+        String face = text.substring(text.indexOf("## The public face"), text.indexOf("## Terms"));
+        Set<String> due = new TreeSet<>();
+        Matcher m = Pattern.compile("public (\\w+) (\\w+)\\(([^)]*)\\)( throws [\\w, ]+)?;").matcher(face);
+        while (m.find()) {
+            String types = m.group(3).replaceAll(" \\w+(?=,|$)", "");
+            due.add(m.group(1) + " " + m.group(2) + "(" + types + ")" + (m.group(4) == null ? "" : m.group(4)));
+        }
+        Set<String> got = new TreeSet<>();
+        for (Method method : MapRun.class.getDeclaredMethods()) {
+            if (Modifier.isPublic(method.getModifiers())) {
+                got.add(method.getReturnType() + " " + method.getName() + "(" + names(method.getParameterTypes()) + ")"
+                        + (method.getExceptionTypes().length == 0 ? "" : " throws " + names(method.getExceptionTypes())));
+            }
+        }
+        Check.yes("the document tells its methods", due.size() >= 31);
+        for (String method : due) {
+            Check.yes("there is " + method, got.contains(method));
+        }
+        Check.same("no others", got.size(), due.size());
+    }
+
+    private static String names(Class<?>[] classes) {
+        List<String> names = new ArrayList<>();
+        for (Class<?> c : classes) {
+            names.add(c.getSimpleName());
+        }
+        return String.join(", ", names);
     }
 
     private static long fields(Class<?> c) {

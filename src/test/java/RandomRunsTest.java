@@ -7,6 +7,9 @@ public final class RandomRunsTest {
     private static final int[] WILD = {-1, -2, 0, 1, 2, 7, 8, 9, 10, 12, 19, 20, 21, 39, 40, 80, 81, 99, 100, 101,
         500, 999, 1000, 99999, 100000, Integer.MAX_VALUE, Integer.MIN_VALUE, Integer.MAX_VALUE - 1};
 
+    /** An object is for 512 calls; what a run begins below this ends below that. */
+    private static final int LAST_TO_BEGIN = 430;
+
     private final Random random;
     private final MapRun x = new MapRun();
     private final Oracle o = new Oracle();
@@ -21,7 +24,7 @@ public final class RandomRunsTest {
     }
 
     public static void main(String[] args) {
-        int runs = args.length > 0 ? Integer.parseInt(args[0]) : 1500;
+        int runs = args.length > 0 ? Integer.parseInt(args[0]) : 2500;
         long from = args.length > 1 ? Long.parseLong(args[1]) : 1;
         for (long seed = from; seed < from + runs; seed++) {
             RandomRunsTest run = new RandomRunsTest(seed);
@@ -41,7 +44,7 @@ public final class RandomRunsTest {
         int setUp = 20 + random.nextInt(60);
         int all = 150 + random.nextInt(200);
         land();
-        for (int i = 0; i < all && Check.wrong() == before; i++) {
+        for (int i = 0; i < all && calls.size() < LAST_TO_BEGIN && Check.wrong() == before; i++) {
             if (i < setUp) {
                 prepare();
             } else if (i == setUp) {

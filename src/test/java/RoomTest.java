@@ -20,7 +20,7 @@ public final class RoomTest {
     }
 
     private static void run(MapRun x, boolean first) {
-        for (int round = 0; round < 3; round++) {
+        for (int round = 0; round < 2; round++) {
             x.land(20, 20);
             x.gates(0, 0, 19, 19);
             for (int i = 0; i < 12; i++) {

@@ -58,20 +58,7 @@ public final class RulesTest {
 
     /** PENALTY of rules for a runner in order that missed 2 of 3, with 1 wrong, run 30, score 4, club 7. */
     private static int penalty(String text) {
-        MapRun x = new MapRun();
-        for (int i = 0; i < 4; i++) {
-            x.post(0, 0, 4);
-        }
-        x.course(false);
-        for (int i = 0; i < 3; i++) {
-            x.add(0, i, i, i);
-        }
-        x.runner(0, 7, 0);
-        x.go(40);
-        x.event(0, 0, 0, 10);
-        x.event(1, 0, 0, 20);
-        x.event(1, 0, 3, 20);
-        x.event(2, 0, 0, 40);
+        MapRun x = Make.judgedByRules();
         Check.same(text, Check.rules(x, text), 0);
         return x.judged(0, 6, 40);
     }

@@ -11,26 +11,8 @@ public final class TrackTest {
         Check.end();
     }
 
-    private static MapRun square(int... cells) {
-        MapRun x = new MapRun();
-        x.land(3, 3);
-        x.takes(1, 0);
-        x.cell(2, 2, 1, 0);
-        x.cell(1, 1, 0, 3);
-        x.wall(0, 0, 1, true);
-        x.gates(0, 0, 1, 0);
-        x.course(false);
-        for (int c : cells) {
-            int p = x.post(c % 10, c / 10, 0);
-            x.add(0, p, p, p);
-        }
-        x.runner(0, 0, 0);
-        x.runner(0, 0, 0);
-        return x;
-    }
-
     private static void track() {
-        MapRun x = square();
+        MapRun x = Make.square();
         Check.same("down, right with climb, up", Check.track(x, 0, "dru"), 5 + 5 + 6 + 5);
         Check.same("no fault", x.fault(), -1);
         Check.same("blanks", Check.track(x, 0, " d\nr u \n"), 21);
@@ -39,7 +21,7 @@ public final class TrackTest {
     }
 
     private static void fault(String text, int answer, int at) {
-        MapRun x = square();
+        MapRun x = Make.square();
         Check.same(text, Check.track(x, 0, text), answer);
         Check.same("place of " + text, x.fault(), at);
         Check.same("the tape is empty", x.count(7), 0);
@@ -60,7 +42,7 @@ public final class TrackTest {
     }
 
     private static void tape() {
-        MapRun x = square();
+        MapRun x = Make.square();
         Check.badArgument("1 of none", () -> x.track(0, 1));
         Check.badArgument("-1", () -> x.track(0, -1));
         Check.same("a fault", Check.track(x, 0, "ddx"), -2);
@@ -79,7 +61,7 @@ public final class TrackTest {
     }
 
     private static void lost() {
-        MapRun x = square(20);
+        MapRun x = Make.square(20);
         Check.same("length", x.row(0, 100), 10 + 21);
         Check.same("none yet", x.lost(0), -100000);
         Check.noSuch("nobody", () -> x.lost(2));
