@@ -108,9 +108,11 @@ final class EdgesBest {
         MapRun near = Make.freeLine(7, 0, 5, 1, 1, 1, 6, 1);
         near.gates(0, 0, 6, 0);
         isBest(near, 30, 3, 7, 30);
+        isBest(near, 1000, 3, 7, 30);
         MapRun last = Make.freeLine(7, 0, 6, 1, 5, 1, 1, 1);
         last.gates(0, 0, 6, 0);
         isBest(last, 30, 3, 7, 30);
+        isBest(last, 1000, 3, 7, 30);
     }
 
     private static void mostPoints() {

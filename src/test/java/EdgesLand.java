@@ -1,3 +1,5 @@
+import java.util.Arrays;
+
 /** Terms 1 and promises 1 to 9, sentence by sentence. */
 final class EdgesLand {
     private static final String TERMS = "Terms 1";
@@ -17,6 +19,8 @@ final class EdgesLand {
         secondsOfTheGroundComeTo();
         climb();
         toItself();
+        longestWay();
+        roughLand();
         fewestSeconds();
         fewestMoves();
         firstAsARow();
@@ -210,6 +214,74 @@ final class EdgesLand {
         MapRun y = Make.land(2, 1);
         y.way(0, 0, 1, 0);
         Check.same("a row of one", y.move(-1), 1);
+    }
+
+    private static void longestWay() {
+        Doc.says(TERMS, "is a row of MOVES");
+        MapRun x = Make.land(20, 20);
+        for (int row = 0; row < 19; row++) {
+            for (int at = 0; at < 19; at++) {
+                x.wall(row % 2 == 0 ? at : at + 1, row, 2, true);
+            }
+        }
+        x.takes(0, 99);
+        Check.same("through all 400 cells", x.way(0, 0, 0, 19), 399 * 99);
+        Check.same("by 399 moves", x.move(-1), 399);
+        int[] turns = {1, 18, 19, 20, 38, 39, 380, 398};
+        int[] due = {1, 1, 2, 3, 3, 2, 3, 3};
+        for (int i = 0; i < turns.length; i++) {
+            Check.same("move " + turns[i], x.move(turns[i]), due[i]);
+        }
+        Check.noSuch("no more", () -> x.move(399));
+        Check.same("one such way", x.many(0, 0, 0, 19), 1);
+        Check.same("and back", x.way(0, 19, 0, 0), 399 * 99);
+        Check.same("first to the right", x.move(0), 1);
+        x.gates(0, 0, 0, 19);
+        x.course(true);
+        for (int i = 0; i < 12; i++) {
+            int p = x.post(0, i % 2 == 0 ? 19 : 0, 1);
+            x.add(0, p, p, p);
+        }
+        Check.same("all posts on one way", x.best(0, 399 * 99), 12);
+        x.runner(0, 0, 0);
+        Check.same("thirteen times the whole way", x.row(0, 100), 13 * 399 * 99);
+    }
+
+    /** A large rough land, held against seconds that are found by going over all moves till nothing changes. */
+    private static void roughLand() {
+        Doc.says(TERMS, "LEAST: of fewest SECONDS");
+        int[] takes = {5, 1, 99, 40, 17, 3, 60, 0};
+        int[] cost = new int[400];
+        int[] height = new int[400];
+        MapRun x = Make.land(20, 20);
+        for (int ground = 0; ground < 8; ground++) {
+            x.takes(ground, takes[ground]);
+        }
+        for (int cell = 0; cell < 400; cell++) {
+            int ground = cell * cell * 7 / 11 % 8;
+            height[cell] = cell * 37 % 41;
+            cost[cell] = takes[ground];
+            x.cell(cell % 20, cell / 20, ground, height[cell]);
+        }
+        int to = 209;
+        int[] far = new int[400];
+        Arrays.fill(far, 1000000);
+        far[to] = 0;
+        for (int round = 0; round < 400; round++) {
+            for (int cell = 0; cell < 400; cell++) {
+                int[] beside = {cell - 20, cell % 20 < 19 ? cell + 1 : -1, cell + 20, cell % 20 > 0 ? cell - 1 : -1};
+                for (int next : beside) {
+                    if (next >= 0 && next < 400 && cost[next] > 0) {
+                        int climb = 2 * Math.max(0, height[next] - height[cell]);
+                        far[cell] = Math.min(far[cell], far[next] + cost[next] + climb);
+                    }
+                }
+            }
+        }
+        for (int cell = 3; cell < 400; cell += 4) {
+            int due = far[cell] == 1000000 ? -1 : far[cell];
+            Check.same("from cell " + cell, x.way(cell % 20, cell / 20, to % 20, to / 20), due);
+        }
     }
 
     /** Three cells by two; over the slow cell (1, 1) it is two moves, over the upper ones four. */
