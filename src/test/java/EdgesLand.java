@@ -1,4 +1,5 @@
 import java.util.Arrays;
+import java.util.Random;
 
 /** Terms 1 and promises 1 to 9, sentence by sentence. */
 final class EdgesLand {
@@ -20,7 +21,7 @@ final class EdgesLand {
         climb();
         toItself();
         longestWay();
-        roughLand();
+        roughLands();
         fewestSeconds();
         fewestMoves();
         firstAsARow();
@@ -247,41 +248,59 @@ final class EdgesLand {
         Check.same("thirteen times the whole way", x.row(0, 100), 13 * 399 * 99);
     }
 
-    /** A large rough land, held against seconds that are found by going over all moves till nothing changes. */
-    private static void roughLand() {
+    /** Large rough lands, held against seconds that are found by going over all moves till nothing changes. */
+    private static void roughLands() {
         Doc.says(TERMS, "LEAST: of fewest SECONDS");
-        int[] takes = {5, 1, 99, 40, 17, 3, 60, 0};
-        int[] cost = new int[400];
-        int[] height = new int[400];
+        for (int seed = 0; seed < 40; seed++) {
+            roughLand(new Random(seed), "seed " + seed);
+        }
+    }
+
+    private static void roughLand(Random random, String name) {
         MapRun x = Make.land(20, 20);
+        int[] takes = new int[8];
         for (int ground = 0; ground < 8; ground++) {
+            takes[ground] = ground == 7 ? 0 : 1 + random.nextInt(99);
             x.takes(ground, takes[ground]);
         }
+        int[] cost = new int[400];
+        int[] height = new int[400];
         for (int cell = 0; cell < 400; cell++) {
-            int ground = cell * cell * 7 / 11 % 8;
-            height[cell] = cell * 37 % 41;
+            int ground = random.nextInt(20) == 0 ? 7 : random.nextInt(7);
             cost[cell] = takes[ground];
+            height[cell] = random.nextInt(100);
             x.cell(cell % 20, cell / 20, ground, height[cell]);
         }
-        int to = 209;
+        int to = random.nextInt(400);
+        int[] far = secondsTo(to, cost, height);
+        for (int cell = to % 4; cell < 400; cell += 4) {
+            Check.same(name + ", from cell " + cell, x.way(cell % 20, cell / 20, to % 20, to / 20), far[cell]);
+        }
+    }
+
+    /** Of each of 20 by 20 cells, with the climb as it is at first; -1 from where there is no way. */
+    private static int[] secondsTo(int to, int[] cost, int[] height) {
         int[] far = new int[400];
-        Arrays.fill(far, 1000000);
+        Arrays.fill(far, -1);
         far[to] = 0;
-        for (int round = 0; round < 400; round++) {
+        boolean changed = true;
+        while (changed) {
+            changed = false;
             for (int cell = 0; cell < 400; cell++) {
                 int[] beside = {cell - 20, cell % 20 < 19 ? cell + 1 : -1, cell + 20, cell % 20 > 0 ? cell - 1 : -1};
                 for (int next : beside) {
-                    if (next >= 0 && next < 400 && cost[next] > 0) {
-                        int climb = 2 * Math.max(0, height[next] - height[cell]);
-                        far[cell] = Math.min(far[cell], far[next] + cost[next] + climb);
+                    if (next < 0 || next >= 400 || cost[next] == 0 || far[next] < 0) {
+                        continue;
+                    }
+                    int by = far[next] + cost[next] + 2 * Math.max(0, height[next] - height[cell]);
+                    if (far[cell] < 0 || by < far[cell]) {
+                        far[cell] = by;
+                        changed = true;
                     }
                 }
             }
         }
-        for (int cell = 3; cell < 400; cell += 4) {
-            int due = far[cell] == 1000000 ? -1 : far[cell];
-            Check.same("from cell " + cell, x.way(cell % 20, cell / 20, to % 20, to / 20), due);
-        }
+        return far;
     }
 
     /** Three cells by two; over the slow cell (1, 1) it is two moves, over the upper ones four. */
