@@ -90,6 +90,12 @@ final class EdgesBest {
         Check.same("no way at all", x.best(0, 1000), -1);
         x.gates(4, 0, 2, 0);
         isBest(x, 1000, 30, 3, 13 + 5 + 5 + 5);
+        MapRun apart = Make.freeLine(6, 0, 1, 10, 4, 20, 2, 30, 5, 40);
+        apart.wall(2, 0, 1, true);
+        int[] seconds = {20, 1000, 2000000000, 2000000020, Integer.MAX_VALUE};
+        for (int most : seconds) {
+            isBest(apart, most, 40, 5, 20);
+        }
         MapRun back = Make.freeLine(9, 8, 1, 10, 5, 20);
         back.gates(8, 0, 2, 0);
         isBest(back, 40, 30, 3, 40);

@@ -342,6 +342,19 @@ final class EdgesCourses {
         Check.same("the third of another", x.team(0, 1, 3), -1);
         Check.same("all of a free one", x.team(4, 5, 6), -1);
         Check.same("all of one in order", x.team(0, 1, 2), 0);
+        MapRun mixed = Make.runners(3);
+        mixed.course(false);
+        for (int i = 0; i < 3; i++) {
+            mixed.runner(1, 0, 0);
+        }
+        for (int mix = 1; mix < 7; mix++) {
+            int a = (mix & 1) * 3;
+            int b = 1 + (mix >> 1 & 1) * 3;
+            int c = 2 + (mix >> 2) * 3;
+            Check.same("of two courses: " + a + " " + b + " " + c, mixed.team(a, b, c), -1);
+        }
+        Check.same("of the second", mixed.team(3, 4, 5), 0);
+        Check.same("of the first", mixed.team(0, 1, 2), 1);
     }
 
     private static void teamOfNobodyTwice() {
@@ -372,6 +385,23 @@ final class EdgesCourses {
             Check.same("in another order, " + i, x.team(i, 0, 1), -1);
         }
         Check.same("all", x.team(1, 2, 0), 0);
+        int[][] orders = {{0, 1, 2}, {0, 2, 1}, {1, 0, 2}, {1, 2, 0}, {2, 0, 1}, {2, 1, 0}};
+        for (int[] order : orders) {
+            MapRun turned = fourForks();
+            turned.runner(0, 0, 3 + 9 * 2);
+            turned.runner(0, 0, 1 + 3 * 2 + 27 * 2);
+            turned.runner(0, 0, 2 + 9 + 27);
+            turned.runner(0, 0, 2 + 9 + 27 * 2);
+            turned.runner(0, 0, 2 + 9 * 2 + 27);
+            turned.runner(0, 0, 2 + 3 * 2 + 9 + 27);
+            turned.runner(0, 0, 9 + 27);
+            for (int third = 3; third < 7; third++) {
+                int[] three = {0, 1, third};
+                Check.same("all but one fork, " + third,
+                        turned.team(three[order[0]], three[order[1]], three[order[2]]), -1);
+            }
+            Check.same("each fork in another order", turned.team(order[0], order[1], order[2]), 0);
+        }
         MapRun y = Make.course(false);
         y.add(0, 0, 1, 0);
         y.runner(0, 0, 2);
@@ -501,6 +531,13 @@ final class EdgesCourses {
         Check.noSuch("a punch's post", () -> x.event(1, 0, 5, 0));
         Check.noSuch("a punch's post -1", () -> x.event(1, 0, -1, 0));
         Check.noSuch("no course at all", () -> new MapRun().runner(0, 0, 0));
+        int[] farOff = {2, 7, 8, 9, -2, Integer.MAX_VALUE, Integer.MIN_VALUE};
+        for (int course : farOff) {
+            Check.noSuch("add to " + course, () -> x.add(course, 0, 0, 0));
+            Check.noSuch("runner of " + course, () -> x.runner(course, 0, 0));
+            Check.noSuch("draw of " + course, () -> x.draw(course, 0, 0));
+            Check.noSuch("best of " + course, () -> x.best(course, 0));
+        }
     }
 
     private static void runner() {

@@ -71,6 +71,14 @@ final class EdgesDraw {
             Check.same("none of course 0", x.judged(i, 1, 0), -1);
         }
         Check.same("from 9 on", x.judged(3, 1, 0) + x.judged(4, 1, 0), 9 + 69);
+        MapRun both = Make.clubs(0, 1, 2);
+        both.course(false);
+        both.runner(1, 3, 0);
+        both.runner(1, 4, 0);
+        Check.same("of course 0", both.draw(0, 5, 9), 3);
+        for (int i = 3; i < 5; i++) {
+            Check.same("none of course 1", both.judged(i, 1, 0), -1);
+        }
         Check.no("another seed, another row", shuffled(10, 1).equals(shuffled(10, 1 + (1L << 40))));
         drawsShuffled(10, 1);
         drawsShuffled(10, 1 + (1L << 40));

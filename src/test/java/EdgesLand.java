@@ -62,6 +62,13 @@ final class EdgesLand {
         Check.noSuch("to y 2", () -> x.way(0, 0, 0, 2));
         Check.noSuch("to x -1", () -> x.way(0, 0, -1, 0));
         Check.noSuch("to y -1", () -> x.way(0, 0, 0, -1));
+        int[] farOff = {4, 19, 20, 21, 400, -2, -20, Integer.MAX_VALUE, Integer.MIN_VALUE};
+        for (int off : farOff) {
+            Check.noSuch("x " + off, () -> x.way(off, 0, 0, 0));
+            Check.noSuch("y " + off, () -> x.way(0, off, 0, 0));
+            Check.noSuch("to x " + off, () -> x.way(0, 0, off, 0));
+            Check.noSuch("to y " + off, () -> x.way(0, 0, 0, off));
+        }
     }
 
     private static void sides() {
@@ -170,6 +177,13 @@ final class EdgesLand {
         Check.same("many over it", x.many(0, 0, 2, 0), 0);
         Check.same("from it", x.way(1, 0, 2, 0), 5);
         Check.same("many from it", x.many(1, 0, 2, 0), 1);
+        MapRun up = Make.land(2, 2);
+        up.takes(1, 0);
+        up.takes(8, 1);
+        up.cell(1, 0, 1, 5);
+        Check.same("its climb alone would take as long", up.way(0, 0, 1, 1), 10);
+        Check.same("yet the way goes round it", up.move(0), 2);
+        Check.same("and there is no other", up.many(0, 0, 1, 1), 1);
     }
 
     private static void secondsOfTheGroundComeTo() {
@@ -499,6 +513,10 @@ final class EdgesLand {
         Check.same("no protest puts it out", x.judged(0, 0, 0), 4);
         Check.same("nor adds to it", x.judged(0, 7, 0), 0);
         Check.same("protests from 0 on", x.protest(0), 0);
+        Check.same("none is decided yet", x.judged(0, 0, 0), 4);
+        Check.same("nor adds", x.judged(0, 7, 0), 0);
+        Check.yes("the first", x.decide(0, 2, 0));
+        Check.same("it puts out", x.judged(0, 0, 0), 2);
         x.runner(1, 0, 0);
         x.runner(1, 0, 0);
         Check.same("teams from 0 on, none is in one", x.team(2, 0, 1), 0);

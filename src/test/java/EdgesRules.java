@@ -193,6 +193,8 @@ final class EdgesRules {
         faults("set gap;", 1, 7);
         faults("set gap 1 unless 1;", 1, 10);
         faults("set 1;", 1, 4);
+        faults("set;", 1, 3);
+        faults("set ;", 1, 4);
         faults("set gap 1", 1, 9);
     }
 
@@ -336,7 +338,9 @@ final class EdgesRules {
         isWorth("(5)", 5);
         Doc.says(TERMS, "(what isn't 0 holds)");
         isWorth("(0 - 1) and 2", 1);
+        isWorth("2 and (0 - 1)", 1);
         isWorth("0 or (0 - 1)", 1);
+        isWorth("(0 - 1) or 0", 1);
         isWorth("not (0 - 1)", 0);
         isWorth("9 unless (0 - 1)", 0);
         isWorth("65536 * 32768 and 1", 1);
@@ -421,6 +425,12 @@ final class EdgesRules {
         Check.feed(x, "outs 1;");
         Check.same("three letters of four", x.rules(3), 1);
         Check.same("the end behind them too", x.fault(), 3);
+        Check.feed(x, "out free;");
+        Check.same("three letters of a value", x.rules(7), 3);
+        Check.same("which are none", x.fault(), 4);
+        Check.feed(x, "out 1 or 1;");
+        Check.same("one letter of two", x.rules(7), 1);
+        Check.same("which can't stand there", x.fault(), 6);
     }
 
     private static void sixDigits() {
@@ -477,6 +487,10 @@ final class EdgesRules {
     private static void sevenNots() {
         Doc.says(TERMS, "the seventh 'not' side by side");
         isWorth(SIX_NOTS + "5", 1);
+        String[] words = {"limit", "gap", "window", "missed", "wrong", "run", "score", "posts", "club", "free"};
+        for (String word : words) {
+            isWorth(SIX_NOTS + word, word.equals("free") ? 0 : 1);
+        }
         faults("penalty " + SIX_NOTS + "not 5;", 2, 8 + SIX_NOTS.length());
         faults("penalty " + SIX_NOTS + "not not", 2, 8 + SIX_NOTS.length());
         faults("penalty " + SIX_NOTS + "\n\nnot", 2, 8 + SIX_NOTS.length() + 2);

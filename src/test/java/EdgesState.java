@@ -183,6 +183,14 @@ final class EdgesState {
         places(x, 2, 2, 2, 5, 1, 1);
         x.back(4);
         places(x, 1, 1, 1, 4, -1, 1);
+        MapRun two = ran(false, 50, 40);
+        two.course(false);
+        for (int i = 2; i < 4; i++) {
+            two.runner(1, 0, 0);
+            two.event(0, i, 0, 0);
+            two.event(2, i, 0, 75 - 10 * i);
+        }
+        places(two, 2, 1, 2, 1);
     }
 
     private static void placeAmongForty() {
@@ -430,6 +438,10 @@ final class EdgesState {
         Check.same("less is better", x.ofTeam(0, 1, 100), 1);
         Check.same("more is worse", x.ofTeam(1, 1, 100), 2);
         Check.same("of another course", x.ofTeam(2, 1, 100), 1);
+        MapRun turned = relay(20, 10, 25);
+        Check.same("a better one behind it", turned.ofTeam(0, 1, 100), 2);
+        Check.same("the better one", turned.ofTeam(1, 1, 100), 1);
+        Check.same("the course ahead has better ones", turned.ofTeam(2, 1, 100), 1);
         MapRun like = relay(10, 10, 10);
         Check.same("of like ones the same, 0", like.ofTeam(0, 1, 100), 1);
         Check.same("of like ones the same, 1", like.ofTeam(1, 1, 100), 1);

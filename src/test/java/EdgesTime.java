@@ -616,6 +616,13 @@ final class EdgesTime {
         Check.same("punched, but not kept", x.split(0, 1, 100), -1);
         Check.same("not punched", Make.race(false, 0).split(0, 0, 100), -1);
         Check.same("not punched, on a free course", Make.race(true, 0).split(0, 0, 100), -1);
+        for (int free = 0; free < 2; free++) {
+            MapRun late = Make.race(free == 1, 0, 1);
+            late.event(0, 0, 0, 25);
+            Make.punch(late, 0, 1, 40);
+            Check.same("not punched, whatever the start", late.split(0, 0, 100), -1);
+            Check.same("the other one is", late.split(0, 1, 100), 15);
+        }
         Doc.says("Promise 20", "or there is no START.");
         Check.same("with a start", x.split(0, 0, 100), 20);
         x.back(0);
