@@ -1,3 +1,5 @@
+import java.util.Random;
+
 /** Terms 7 and promises 28 to 32, sentence by sentence. */
 final class EdgesBest {
     private static final String TERMS = "Terms 7";
@@ -9,6 +11,7 @@ final class EdgesBest {
         sets();
         goneThrough();
         inSomeOrder();
+        inEveryOrder();
         mostPoints();
         fewestSeconds();
         lesserNumber();
@@ -121,6 +124,66 @@ final class EdgesBest {
         isBest(last, 1000, 3, 7, 30);
     }
 
+    /** Courses of seven posts through rough lands, held against every set in every order. */
+    private static void inEveryOrder() {
+        Doc.says(TERMS, "in some order");
+        for (int seed = 0; seed < 12; seed++) {
+            Random random = new Random(seed);
+            MapRun x = Make.land(6, 6);
+            x.takes(0, 1 + seed % 5);
+            for (int i = 0; i < 36; i++) {
+                x.cell(i % 6, i / 6, 0, random.nextInt(seed % 3 == 0 ? 2 : 9));
+            }
+            int[] cells = new int[9];
+            for (int i = 0; i < 9; i++) {
+                cells[i] = random.nextInt(36);
+            }
+            x.gates(cells[7] % 6, cells[7] / 6, cells[8] % 6, cells[8] / 6);
+            x.course(true);
+            int[] points = new int[7];
+            for (int i = 0; i < 7; i++) {
+                points[i] = random.nextInt(seed % 2 == 0 ? 3 : 100);
+                int p = x.post(cells[i] % 6, cells[i] / 6, points[i]);
+                x.add(0, p, p, p);
+            }
+            int[][] legs = legs(x, cells);
+            for (int i = 0; i < 70; i++) {
+                int seconds = legs[7][8] + i * (1 + seed % 5);
+                int[] due = {-1, 0, 0};
+                tryOn(legs, points, seconds, new int[] {0, 0, 0}, 7, due);
+                isBest(x, seconds, due[0], due[2], due[1]);
+            }
+        }
+    }
+
+    /** Between seven posts, from the start (7) and to the finish (8). */
+    private static int[][] legs(MapRun x, int[] cells) {
+        int[][] legs = new int[9][9];
+        for (int from = 0; from < 8; from++) {
+            for (int to = 0; to < 9; to++) {
+                legs[from][to] = x.way(cells[from] % 6, cells[from] / 6, cells[to] % 6, cells[to] / 6);
+            }
+        }
+        return legs;
+    }
+
+    /** From the last place of a row (its points, seconds and set) to the finish, and to each place that is left. */
+    private static void tryOn(int[][] legs, int[] points, int seconds, int[] row, int last, int[] due) {
+        int home = row[1] + legs[last][8];
+        if (home <= seconds && (row[0] > due[0]
+                || row[0] == due[0] && (home < due[1] || home == due[1] && row[2] < due[2]))) {
+            due[0] = row[0];
+            due[1] = home;
+            due[2] = row[2];
+        }
+        for (int next = 0; next < 7; next++) {
+            if ((row[2] >> next & 1) == 0) {
+                int[] on = {row[0] + points[next], row[1] + legs[last][next], row[2] | 1 << next};
+                tryOn(legs, points, seconds, on, next, due);
+            }
+        }
+    }
+
     private static void mostPoints() {
         Doc.says(TERMS, "greatest sum of POINTS");
         MapRun x = Make.freeLine(9, 4, 3, 10, 2, 1, 5, 6, 6, 6);
@@ -193,6 +256,17 @@ final class EdgesBest {
             longest.append("du");
         }
         Check.same("500 moves", Check.track(x, 0, longest.toString()), 2500);
+        MapRun hills = Make.land(3, 2);
+        int[] heights = {5, 9, 2, 30, 7, 31};
+        for (int i = 0; i < 6; i++) {
+            hills.takes(i, i + 1);
+            hills.cell(i % 3, i / 3, i, heights[i]);
+        }
+        hills.gates(1, 0, 2, 1);
+        hills.course(false);
+        hills.runner(0, 0, 0);
+        Check.same("up and down", Check.track(hills, 0, "ldrrul"), 1 + (4 + 50) + 5 + (6 + 48) + 3 + (2 + 14));
+        Check.same("and round the other way", Check.track(hills, 0, "rdllur"), 3 + (6 + 58) + 5 + (4 + 46) + 1 + (2 + 8));
     }
 
     private static void lostSeconds() {
@@ -339,6 +413,7 @@ final class EdgesBest {
         Check.noSuch("one refused keeps none", () -> y.bestOf(0));
         y.best(0, 20);
         Check.same("an empty set is kept", y.bestOf(0), 0);
+        Check.same("the straight way", y.bestOf(1), 20);
     }
 
     private static void track() {
@@ -390,6 +465,17 @@ final class EdgesBest {
         Check.same("one with fault 1 leaves it", x.lost(0), 20);
         Check.track(x, 0, "druu");
         Check.same("one with fault 2 leaves it", x.lost(0), 20);
+        for (int club = 0; club < 3; club++) {
+            Check.same("one more runner", x.runner(0, club, 0), 2 + club);
+            Check.same("without a track", x.lost(2 + club), -100000);
+            Check.same("the first one's stays", x.lost(0), 20);
+            Check.same("the second one's too", x.lost(1), 0);
+        }
+        Check.track(x, 3, "drurl");
+        int[] due = {20, 0, -100000, 10, -100000};
+        for (int i = 0; i < 5; i++) {
+            Check.same("of runner " + i, x.lost(i), due[i]);
+        }
     }
 
     private static void lostNone() {

@@ -342,19 +342,20 @@ final class EdgesCourses {
         Check.same("the third of another", x.team(0, 1, 3), -1);
         Check.same("all of a free one", x.team(4, 5, 6), -1);
         Check.same("all of one in order", x.team(0, 1, 2), 0);
-        MapRun mixed = Make.runners(3);
+        MapRun mixed = new MapRun();
         mixed.course(false);
-        for (int i = 0; i < 3; i++) {
-            mixed.runner(1, 0, 0);
+        mixed.course(false);
+        for (int i = 0; i < 6; i++) {
+            mixed.runner(i % 2, 0, 0);
         }
         for (int mix = 1; mix < 7; mix++) {
-            int a = (mix & 1) * 3;
-            int b = 1 + (mix >> 1 & 1) * 3;
-            int c = 2 + (mix >> 2) * 3;
+            int a = mix & 1;
+            int b = 2 + (mix >> 1 & 1);
+            int c = 4 + (mix >> 2);
             Check.same("of two courses: " + a + " " + b + " " + c, mixed.team(a, b, c), -1);
         }
-        Check.same("of the second", mixed.team(3, 4, 5), 0);
-        Check.same("of the first", mixed.team(0, 1, 2), 1);
+        Check.same("of the second", mixed.team(1, 3, 5), 0);
+        Check.same("of the first", mixed.team(0, 2, 4), 1);
     }
 
     private static void teamOfNobodyTwice() {
@@ -471,6 +472,18 @@ final class EdgesCourses {
         Check.same("c is a: a fork", x.add(0, 0, 1, 0), 6);
         Check.same("the 4th fork", x.add(0, 2, 1, 1), 7);
         Check.same("the 5th", x.add(0, 2, 1, 1), -1);
+        MapRun posts = Make.course(false);
+        for (int i = 1; i <= 8; i++) {
+            Check.same("posts, whatever c", posts.add(0, 0, 0, 4), i);
+        }
+        for (int i = 9; i <= 12; i++) {
+            Check.same("forks, though c is a", posts.add(0, 0, 4, 0), i);
+        }
+        MapRun forks = Make.course(false);
+        for (int i = 1; i <= 4; i++) {
+            forks.add(0, 0, 4, 0);
+        }
+        Check.same("the 5th of such", forks.add(0, 0, 4, 0), -1);
         x.runner(0, 0, 80);
         Check.same("whatever the variant", x.row(0, 3), 3);
         Check.same("as the first", x.row(0, 0), 1);

@@ -204,6 +204,17 @@ final class EdgesDraw {
                     360);
             Check.yes("none of them second", x.judged(0, 1, 0) % 120 == 0 && x.judged(2, 1, 0) % 120 == 0);
         }
+        for (int club = 0; club < 10; club++) {
+            int other = (club + 3) % 10;
+            int third = (club + 5) % 10;
+            for (long seed = 0; seed < 8; seed++) {
+                MapRun x = Make.clubs(club, other, club, third, club);
+                Check.same("three of club " + club, x.draw(0, seed, 0), 5);
+                Check.same("the other between them", x.judged(1, 1, 0) % 120, 60);
+                Check.same("the third too", x.judged(3, 1, 0) % 120, 60);
+                Check.same("three of four", Make.clubs(club, other, club, club).draw(0, seed, 0), -1);
+            }
+        }
         MapRun two = Make.clubs(1, 1, 1, 2, 2, 2);
         Check.same("two clubs in turn", two.draw(0, 8, 0), 6);
         int first = two.judged(0, 1, 0) / 60 % 2;

@@ -1,6 +1,3 @@
-import java.util.Arrays;
-import java.util.Random;
-
 /** Terms 1 and promises 1 to 9, sentence by sentence. */
 final class EdgesLand {
     private static final String TERMS = "Terms 1";
@@ -21,7 +18,6 @@ final class EdgesLand {
         climb();
         toItself();
         longestWay();
-        roughLands();
         fewestSeconds();
         fewestMoves();
         firstAsARow();
@@ -262,61 +258,6 @@ final class EdgesLand {
         Check.same("thirteen times the whole way", x.row(0, 100), 13 * 399 * 99);
     }
 
-    /** Large rough lands, held against seconds that are found by going over all moves till nothing changes. */
-    private static void roughLands() {
-        Doc.says(TERMS, "LEAST: of fewest SECONDS");
-        for (int seed = 0; seed < 40; seed++) {
-            roughLand(new Random(seed), "seed " + seed);
-        }
-    }
-
-    private static void roughLand(Random random, String name) {
-        MapRun x = Make.land(20, 20);
-        int[] takes = new int[8];
-        for (int ground = 0; ground < 8; ground++) {
-            takes[ground] = ground == 7 ? 0 : 1 + random.nextInt(99);
-            x.takes(ground, takes[ground]);
-        }
-        int[] cost = new int[400];
-        int[] height = new int[400];
-        for (int cell = 0; cell < 400; cell++) {
-            int ground = random.nextInt(20) == 0 ? 7 : random.nextInt(7);
-            cost[cell] = takes[ground];
-            height[cell] = random.nextInt(100);
-            x.cell(cell % 20, cell / 20, ground, height[cell]);
-        }
-        int to = random.nextInt(400);
-        int[] far = secondsTo(to, cost, height);
-        for (int cell = to % 4; cell < 400; cell += 4) {
-            Check.same(name + ", from cell " + cell, x.way(cell % 20, cell / 20, to % 20, to / 20), far[cell]);
-        }
-    }
-
-    /** Of each of 20 by 20 cells, with the climb as it is at first; -1 from where there is no way. */
-    private static int[] secondsTo(int to, int[] cost, int[] height) {
-        int[] far = new int[400];
-        Arrays.fill(far, -1);
-        far[to] = 0;
-        boolean changed = true;
-        while (changed) {
-            changed = false;
-            for (int cell = 0; cell < 400; cell++) {
-                int[] beside = {cell - 20, cell % 20 < 19 ? cell + 1 : -1, cell + 20, cell % 20 > 0 ? cell - 1 : -1};
-                for (int next : beside) {
-                    if (next < 0 || next >= 400 || cost[next] == 0 || far[next] < 0) {
-                        continue;
-                    }
-                    int by = far[next] + cost[next] + 2 * Math.max(0, height[next] - height[cell]);
-                    if (far[cell] < 0 || by < far[cell]) {
-                        far[cell] = by;
-                        changed = true;
-                    }
-                }
-            }
-        }
-        return far;
-    }
-
     /** Three cells by two; over the slow cell (1, 1) it is two moves, over the upper ones four. */
     private static MapRun slowAndStraight(int slow) {
         MapRun x = Make.land(3, 2);
@@ -544,6 +485,30 @@ final class EdgesLand {
         Check.same("seconds of ground 1, and climb", x.way(0, 0, 1, 0), 5 + 2);
         x.runner(0, 0, 0);
         Check.same("the gates", x.row(0, 100), 16);
+        for (int what = 0; what < 3; what++) {
+            allOfTheLandGoes(what);
+        }
+    }
+
+    /** Every second cell is barred, or high, or walled in; gone through row by row, nothing of it is left. */
+    private static void allOfTheLandGoes(int what) {
+        MapRun x = Make.land(20, 20);
+        x.takes(1, 0);
+        for (int at = 0; at < 400; at += 2) {
+            int atX = at % 20;
+            int atY = at / 20;
+            if (what < 2) {
+                x.cell(atX, atY, what, 99 * (1 - what));
+            } else {
+                x.wall(atX, atY, 1, true);
+                x.wall(atX, atY, 2, true);
+            }
+        }
+        x.land(20, 20);
+        for (int row = 0; row < 20; row++) {
+            Check.same("row " + row, x.way(0, row, 19, row), 95);
+            Check.same("column " + row, x.way(row, 19, row, 0), 95);
+        }
     }
 
     private static void landTakesTimeAndFault() {

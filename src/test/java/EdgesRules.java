@@ -82,6 +82,17 @@ final class EdgesRules {
         Check.feed(x, longest + "?");
         Check.same("the last of 500 bytes is read", x.rules(500), 1);
         Check.same("at its place", x.fault(), 499);
+        String[] beginnings = {"p", "penalt", "o", "s", "se", "f"};
+        for (String begun : beginnings) {
+            Check.feed(x, times(500 - begun.length(), " ") + begun);
+            Check.same("a word begun at the end", x.rules(500), 1);
+            Check.same("at its place", x.fault(), 500 - begun.length());
+            Check.feed(x, times(496 - begun.length(), "\n") + "out " + begun);
+            Check.same("where a part must stand", x.rules(500), 3);
+            Check.same("there", x.fault(), 500 - begun.length());
+        }
+        Check.feed(x, times(500, " "));
+        Check.same("blanks alone", x.rules(500), 0);
         Check.same("an empty text", new MapRun().rules(0), 0);
     }
 
@@ -289,6 +300,15 @@ final class EdgesRules {
         isWorth("7 / 2 * 2", 6);
         isWorth("2 * 7 / 4", 3);
         isWorth("0 and 0 or 1", 1);
+        isWorth(times(90, "0 or ") + "1", 1);
+        isWorth(times(90, "0 or ") + "0", 0);
+        isWorth(times(80, "1 and ") + "1", 1);
+        isWorth(times(80, "1 and ") + "0", 0);
+        isWorth(times(80, "1 and ") + "0 or 2", 1);
+        isWorth(times(120, "3 + ") + "1", 361);
+        isWorth("1" + times(120, " - 3"), -359);
+        isWorth(times(120, "1 * ") + "7", 7);
+        isWorth("3" + times(12, " * 2") + times(12, " / 2"), 3);
     }
 
     private static void wrap() {
@@ -468,6 +488,16 @@ final class EdgesRules {
         isWorth("(((((5)))))", 5);
         isWorth("1 + (((((5))))) * (((((2)))))", 11);
         isWorth("1 unless (((((0)))))", 1);
+        String[] joins = {"0 or ", "1 and ", "0 + ", "5 - ", "1 * ", "1 / ", "0 < ", "5 = ", "not "};
+        for (String join : joins) {
+            for (int many = 1; many < 9; many += 7) {
+                String row = join.matches(".*[<=t] ") ? join : times(many, join);
+                reads("penalty " + row + "(((((5)))));");
+                faults("penalty " + row + "((((((5", 2, 8 + row.length() + 6);
+                reads("penalty (" + row + "((((5))))" + ");");
+                faults("penalty (" + row + "(((((5", 2, 9 + row.length() + 5);
+            }
+        }
         faults("penalty ((((((5))))));", 2, 14);
         faults("penalty (((((( 123456", 2, 15);
         faults("penalty ((((((gap", 2, 14);

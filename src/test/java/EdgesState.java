@@ -117,6 +117,11 @@ final class EdgesState {
         MapRun empty = Make.race(false);
         empty.event(2, 0, 0, 0);
         Check.same("an empty row", empty.judged(0, 0, 100), 4);
+        for (int t = 0; t <= 100; t++) {
+            empty.event(2, 0, 0, t);
+            Check.same("a finish at " + t, empty.judged(0, 0, 100), 4);
+            Check.same("its total", empty.judged(0, 7, 100), t);
+        }
     }
 
     private static void totalInOrder() {
@@ -191,6 +196,31 @@ final class EdgesState {
             two.event(2, i, 0, 75 - 10 * i);
         }
         places(two, 2, 1, 2, 1);
+        MapRun slowed = ran(false, 50, 40, 45);
+        Check.rules(slowed, "penalty (club = 1) * 20 + (club = 2) * 10;");
+        places(slowed, 1, 3, 2);
+        placesAtOnce();
+    }
+
+    /** Places where seconds and totals are as small as the runners' numbers. */
+    private static void placesAtOnce() {
+        for (int k = 0; k < 4; k++) {
+            MapRun x = Make.runners(4);
+            x.go(k);
+            for (int i = 0; i < 4; i++) {
+                x.event(0, i, 0, 0);
+                x.event(2, i, 0, 0);
+            }
+            Check.rules(x, "penalty 3 - club;");
+            for (int i = 0; i < 4; i++) {
+                Check.same("place of " + i + " at " + k, x.judged(i, 8, k), 4 - i);
+                Check.same("total of " + i + " at " + k, x.judged(i, 7, k), 3 - i);
+            }
+            Check.rules(x, "penalty club;");
+            for (int i = 0; i < 4; i++) {
+                Check.same("turned round, place of " + i + " at " + k, x.judged(i, 8, k), 1 + i);
+            }
+        }
     }
 
     private static void placeAmongForty() {
@@ -355,6 +385,23 @@ final class EdgesState {
         x.go(1);
         x.decide(2, 2, 0);
         Check.same("out at last", x.judged(0, 0, 102), 2);
+        int[][] orders = {{0, 1, 2}, {0, 2, 1}, {1, 0, 2}, {1, 2, 0}, {2, 0, 1}, {2, 1, 0}};
+        for (int[] order : orders) {
+            for (int counting = 0; counting < 3; counting++) {
+                MapRun y = finished(false);
+                y.runner(0, 0, 0);
+                y.event(2, 1, 0, 0);
+                y.protest(1);
+                y.decide(0, 2, 0);
+                for (int i = 0; i < 3; i++) {
+                    y.protest(0);
+                }
+                for (int protest : order) {
+                    y.decide(1 + protest, protest == counting ? 1 : 2, 0);
+                }
+                Check.same("the last of three, " + order[2], y.judged(0, 0, 100), order[2] == counting ? 4 : 2);
+            }
+        }
     }
 
     private static void comeTogether() {
@@ -442,6 +489,22 @@ final class EdgesState {
         Check.same("a better one behind it", turned.ofTeam(0, 1, 100), 2);
         Check.same("the better one", turned.ofTeam(1, 1, 100), 1);
         Check.same("the course ahead has better ones", turned.ofTeam(2, 1, 100), 1);
+        for (int k = 0; k < 3; k++) {
+            MapRun small = Make.runners(6);
+            small.go(k);
+            small.team(0, 1, 2);
+            small.team(3, 4, 5);
+            for (int i = 0; i < 6; i++) {
+                small.event(0, i, 0, 0);
+                small.event(2, i, 0, 0);
+            }
+            Check.rules(small, "penalty club = 3;");
+            Check.same("0 seconds at " + k, small.ofTeam(0, 1, k), 1);
+            Check.same("1 second at " + k, small.ofTeam(1, 1, k), 2);
+            Check.rules(small, "penalty club = 2;");
+            Check.same("1 second now, at " + k, small.ofTeam(0, 1, k), 2);
+            Check.same("0 seconds now, at " + k, small.ofTeam(1, 1, k), 1);
+        }
         MapRun like = relay(10, 10, 10);
         Check.same("of like ones the same, 0", like.ofTeam(0, 1, 100), 1);
         Check.same("of like ones the same, 1", like.ofTeam(1, 1, 100), 1);

@@ -4,6 +4,7 @@ import java.io.IOException;
 public final class EdgesTest {
     public static void main(String[] args) throws IOException {
         EdgesLand.all();
+        EdgesRough.all();
         EdgesCourses.all();
         EdgesTime.all();
         EdgesRules.all();

@@ -19,6 +19,8 @@ final class EdgesTime {
         longestRow();
         eachByAnother();
         fullRows();
+        manyPunches();
+        coursesByTurns();
         firstRowOfPlaces();
         missed();
         split();
@@ -288,6 +290,49 @@ final class EdgesTime {
         Make.punch(last, 0, 4, 7);
         Check.same("the twelfth alone", last.split(0, 11, 100), 7);
         Check.same("eleven missed", last.judged(0, 3, 100), 11);
+    }
+
+    private static void manyPunches() {
+        Doc.says(TERMS, "found, in this order, in the PUNCHES");
+        MapRun x = Make.race(false, 0, 1);
+        Make.punch(x, 0, 0, 50, 1, 60);
+        for (int i = 0; i < 120; i++) {
+            Make.punch(x, 0, 2 + i % 3, i % 50);
+            Check.same("the first behind " + (i + 1) + " wrong ones", x.split(0, 0, 100), 50);
+            Check.same("the second", x.split(0, 1, 100), 60);
+        }
+        Check.same("none missed", x.judged(0, 3, 100), 0);
+        Check.same("all wrong ones", x.judged(0, 4, 100), 120);
+    }
+
+    /** Of courses free and in order by turns, each a post longer than the one ahead. */
+    private static void coursesByTurns() {
+        Doc.says(TERMS, "JUDGED, on a COURSE IN ORDER");
+        MapRun x = Make.course(true);
+        for (int course = 1; course < 6; course++) {
+            x.course(course % 2 == 0);
+            for (int i = 0; i < course; i++) {
+                x.add(course, i % 5, i % 5, 0);
+            }
+        }
+        x.go(100);
+        int[] courses = {5, 2, 3, 4, 1, 0, 2, 3};
+        for (int runner = 0; runner < 8; runner++) {
+            x.runner(courses[runner], 0, 0);
+            x.event(0, runner, 0, 10);
+            Make.punch(x, runner, 1, 20, 0, 30);
+            x.event(2, runner, 0, 40 + runner);
+        }
+        int[] missed = {4, 0, 2, 0, 0, 0, 0, 2};
+        int[] score = {1, 3, 1, 3, 1, 0, 3, 1};
+        int[] total = {-100000, 3, -100000, 3, 34, 0, 3, -100000};
+        int[] place = {-1, 1, -1, 1, 1, 1, 2, -1};
+        for (int runner = 0; runner < 8; runner++) {
+            Check.same("missed by " + runner, x.judged(runner, 3, 100), missed[runner]);
+            Check.same("score of " + runner, x.judged(runner, 5, 100), score[runner]);
+            Check.same("total of " + runner, x.judged(runner, 7, 100), total[runner]);
+            Check.same("place of " + runner, x.judged(runner, 8, 100), place[runner]);
+        }
     }
 
     private static void firstRowOfPlaces() {
